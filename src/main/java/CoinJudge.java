@@ -359,7 +359,7 @@ public final class CoinJudge {
         hasher.twice(wide.bytes, 0, wide.length, out, at);
     }
 
-    /** Block 0 is sealed as a draft is, so that it is read and connected as all others are. */
+    /** Block 0 is sealed as a draft is, so that it is read as all others are. */
     private void keepFirstBlock() {
         drafts[0].begin(1, 0);
         tape.addNumber(0, 2);
@@ -1228,24 +1228,18 @@ public final class CoinJudge {
             long a5 = r[x + 5], a6 = r[x + 6], a7 = r[x + 7], a8 = r[x + 8];
             long b0 = r[y], b1 = r[y + 1], b2 = r[y + 2], b3 = r[y + 3], b4 = r[y + 4];
             long b5 = r[y + 5], b6 = r[y + 6], b7 = r[y + 7], b8 = r[y + 8];
-            long c = a1 * b8 + a2 * b7 + a3 * b6 + a4 * b5 + a5 * b4 + a6 * b3 + a7 * b2 + a8 * b1;
-            long h0 = c & Field.LIMB;
-            c = (c >>> 29) + a2 * b8 + a3 * b7 + a4 * b6 + a5 * b5 + a6 * b4 + a7 * b3 + a8 * b2;
-            long h1 = c & Field.LIMB;
-            c = (c >>> 29) + a3 * b8 + a4 * b7 + a5 * b6 + a6 * b5 + a7 * b4 + a8 * b3;
-            long h2 = c & Field.LIMB;
-            c = (c >>> 29) + a4 * b8 + a5 * b7 + a6 * b6 + a7 * b5 + a8 * b4;
-            long h3 = c & Field.LIMB;
-            c = (c >>> 29) + a5 * b8 + a6 * b7 + a7 * b6 + a8 * b5;
-            long h4 = c & Field.LIMB;
-            c = (c >>> 29) + a6 * b8 + a7 * b7 + a8 * b6;
-            long h5 = c & Field.LIMB;
-            c = (c >>> 29) + a7 * b8 + a8 * b7;
-            long h6 = c & Field.LIMB;
-            c = (c >>> 29) + a8 * b8;
-            long h7 = c & Field.LIMB;
-            long h8 = c >>> 29;
-            c = a0 * b0 + FOLD_LOW * h0 + FOLD_LOW * FOLD_HIGH * h8;
+            long c9 = a1 * b8 + a2 * b7 + a3 * b6 + a4 * b5 + a5 * b4 + a6 * b3 + a7 * b2 + a8 * b1;
+            long c10 = (c9 >>> 29) + a2 * b8 + a3 * b7 + a4 * b6 + a5 * b5 + a6 * b4 + a7 * b3 + a8 * b2;
+            long c11 = (c10 >>> 29) + a3 * b8 + a4 * b7 + a5 * b6 + a6 * b5 + a7 * b4 + a8 * b3;
+            long c12 = (c11 >>> 29) + a4 * b8 + a5 * b7 + a6 * b6 + a7 * b5 + a8 * b4;
+            long c13 = (c12 >>> 29) + a5 * b8 + a6 * b7 + a7 * b6 + a8 * b5;
+            long c14 = (c13 >>> 29) + a6 * b8 + a7 * b7 + a8 * b6;
+            long c15 = (c14 >>> 29) + a7 * b8 + a8 * b7;
+            long c16 = (c15 >>> 29) + a8 * b8;
+            long h0 = c9 & Field.LIMB, h1 = c10 & Field.LIMB, h2 = c11 & Field.LIMB, h3 = c12 & Field.LIMB;
+            long h4 = c13 & Field.LIMB, h5 = c14 & Field.LIMB, h6 = c15 & Field.LIMB, h7 = c16 & Field.LIMB;
+            long h8 = c16 >>> 29;
+            long c = a0 * b0 + FOLD_LOW * h0 + FOLD_LOW * FOLD_HIGH * h8;
             long d0 = c & Field.LIMB;
             c = (c >>> 29) + a0 * b1 + a1 * b0 + FOLD_LOW * h1 + FOLD_HIGH * h0 + FOLD_HIGH * FOLD_HIGH * h8;
             long d1 = c & Field.LIMB;
@@ -2461,7 +2455,8 @@ public final class CoinJudge {
             first.work = target.work();
             blocks[0] = first;
             kept = 1;
-            connect(0);
+            addCoins(0, 0);
+            first.coinRow = Arrays.copyOf(coinRow, coinCount);
         }
 
         /** Looks at all that can be seen without coins: 0, a reason, KNOWN or UNKNOWN. */
