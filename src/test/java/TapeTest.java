@@ -1,0 +1,130 @@
+import java.util.Arrays;
+
+/** Promises 1 (the tape of a new object), 2 feed, 3 end, 4 patch, 6 digest, 19 word, and 15 for the tape. */
+public final class TapeTest {
+    private TapeTest() {
+    }
+
+    public static void main(String[] args) {
+        feedAddsBytesTheHighestFirst();
+        feedStopsAtTheLimit();
+        endCutsTheTape();
+        patchChangesOneByte();
+        wordReadsBeyondTheEnd();
+        digestsOfAllLengths();
+        digestsOfKnownTexts();
+        digestRefusesOthers();
+        Check.end();
+    }
+
+    private static void feedAddsBytesTheHighestFirst() {
+        Bench x = new Bench();
+        Check.same("a new tape", x.judge.tell(0), 0);
+        Check.same("feed", x.judge.feed(0x01020304, -1, 0x80000000, 0x000000ff, 0x7f000001), 20);
+        Check.same("fed", x.tape(), Wire.hex("01020304 ffffffff 80000000 000000ff 7f000001"));
+        Check.same("feed again", x.judge.feed(1, 2, 3, 4, 5), 40);
+        Check.same("tell", x.judge.tell(0), 40);
+    }
+
+    private static void feedStopsAtTheLimit() {
+        Bench x = new Bench();
+        for (int i = 1; i <= 80; i++) {
+            Check.same("feed", x.judge.feed(i, 0, 0, 0, 0), 20 * i);
+        }
+        Check.noRoom("feed at 1600", () -> x.judge.feed(1, 1, 1, 1, 1));
+        Check.same("not changed", x.judge.tell(0), 1600);
+        x.judge.end(1581);
+        Check.noRoom("feed at 1581", () -> x.judge.feed(1, 1, 1, 1, 1));
+        x.judge.end(1580);
+        Check.same("feed at 1580", x.judge.feed(1, 1, 1, 1, 1), 1600);
+    }
+
+    private static void endCutsTheTape() {
+        Bench x = new Bench();
+        Check.same("end of nothing", x.judge.end(0), 0);
+        Check.outOfRange("end beyond nothing", () -> x.judge.end(1));
+        x.tape("0102030405");
+        Check.outOfRange("end -1", () -> x.judge.end(-1));
+        Check.outOfRange("end beyond", () -> x.judge.end(6));
+        Check.same("end of all", x.judge.end(5), 5);
+        Check.same("end", x.judge.end(2), 2);
+        Check.same("cut", x.tape(), Wire.hex("0102"));
+        x.judge.feed(-1, -1, -1, -1, -1);
+        Check.same("feed behind", x.judge.word(0), 0x0102ffffffffffffL);
+    }
+
+    private static void patchChangesOneByte() {
+        Bench x = new Bench();
+        Check.outOfRange("patch of nothing", () -> x.judge.patch(0, 1));
+        x.tape("01ff03");
+        Check.same("patch", x.judge.patch(1, 0x1280), 255);
+        Check.same("patch again", x.judge.patch(1, -2), 128);
+        Check.same("patched", x.tape(), Wire.hex("01fe03"));
+        Check.outOfRange("patch -1", () -> x.judge.patch(-1, 1));
+        Check.outOfRange("patch behind", () -> x.judge.patch(3, 1));
+    }
+
+    private static void wordReadsBeyondTheEnd() {
+        Bench x = new Bench();
+        Check.noRoom("word of nothing", () -> x.judge.word(0));
+        x.tape("8102030405060708090a");
+        Check.same("word", x.judge.word(0), 0x8102030405060708L);
+        Check.same("word 2", x.judge.word(2), 0x030405060708090aL);
+        Check.same("word 3", x.judge.word(3), 0x0405060708090a00L);
+        Check.same("word 9", x.judge.word(9), 0x0a00000000000000L);
+        Check.noRoom("word 10", () -> x.judge.word(10));
+        Check.noRoom("word -1", () -> x.judge.word(-1));
+    }
+
+    private static void digestsOfAllLengths() {
+        Bench x = new Bench();
+        byte[] text = new byte[1600];
+        for (int i = 0; i < text.length; i++) {
+            text[i] = (byte) (7 * i + i / 256);
+        }
+        for (int n = 0; n <= 1600; n += n < 200 ? 1 : 140) {
+            byte[] part = Arrays.copyOf(text, n);
+            x.tape(part);
+            Check.same("digest 0", x.judge.digest(0), 32);
+            Check.same("SHA of " + n, x.tape(), Wire.sha(part));
+            x.tape(part);
+            Check.same("digest 3", x.judge.digest(3), 32);
+            Check.same("TWICE of " + n, x.tape(), Wire.twice(part));
+            x.tape(Wire.sha(part));
+            Check.same("digest 1", x.judge.digest(1), 20);
+            byte[] ripe = x.tape();
+            x.tape(part);
+            Check.same("digest 2", x.judge.digest(2), 20);
+            Check.same("HASH160 of " + n, x.tape(), ripe);
+        }
+    }
+
+    private static void digestsOfKnownTexts() {
+        ripe("", "9c1185a5c5e9fc54612808977ee8f548b2258d31");
+        ripe("a", "0bdc9d2d256b3ee9daae347be6f4dc835a467ffe");
+        ripe("abc", "8eb208f7e05d987a9b044a8e98c6b087f15a0bfc");
+        ripe("message digest", "5d0689ef49d2fae572b881b123a85ffa21595f36");
+        ripe("abcdefghijklmnopqrstuvwxyz", "f71c27109c692c1b56bbdceb5b9d2865b3708dbc");
+        ripe("abcdbcdecdefdefgefghfghighijhijkijkljklmklmnlmnomnopnopq", "12a053384a9c0c88e405a06c27dcf49ada62eb2b");
+        ripe("1234567890".repeat(8), "9b752e45573d4b39f4dbd3323cab82bf63326bfb");
+    }
+
+    private static void ripe(String text, String want) {
+        Bench x = new Bench();
+        byte[] bytes = new byte[text.length()];
+        for (int i = 0; i < bytes.length; i++) {
+            bytes[i] = (byte) text.charAt(i);
+        }
+        x.tape(bytes);
+        Check.same("digest", x.judge.digest(1), 20);
+        Check.same("RIPE of " + text, x.tape(), Wire.hex(want));
+    }
+
+    private static void digestRefusesOthers() {
+        Bench x = new Bench();
+        x.tape("010203");
+        Check.outOfRange("digest -1", () -> x.judge.digest(-1));
+        Check.outOfRange("digest 4", () -> x.judge.digest(4));
+        Check.same("not changed", x.tape(), Wire.hex("010203"));
+    }
+}
