@@ -185,7 +185,7 @@ public final class CoinJudge {
         if (i < 0 || i >= latest.inputs) {
             throw new IllegalArgumentException();
         }
-        if (latest.size[i] + pushSize(tape.length) > DRAFT_SCRIPT) {
+        if (latest.size[i] + DraftTx.pushSize(tape.length) > DRAFT_SCRIPT) {
             throw new IndexOutOfBoundsException();
         }
         latest.addPush(i, tape);
@@ -338,11 +338,6 @@ public final class CoinJudge {
 
     private static boolean isNotUnsigned(long value) {
         return value < 0 || value > MOST_UNSIGNED;
-    }
-
-    /** How long a PUSH of so many bytes is, with what stands before them. */
-    private static int pushSize(int count) {
-        return count + (count < 76 ? 1 : count < 256 ? 2 : 3);
     }
 
     /** Whether block b, or the draft for -2, has a transaction t. */
@@ -1633,6 +1628,11 @@ public final class CoinJudge {
         private final long[] value = new long[MOST_DRAFT_ROWS];
         private final byte[][] script = new byte[2 * MOST_DRAFT_ROWS][DRAFT_SCRIPT];
 
+        /** How long a PUSH of so many bytes is, with what stands before them. */
+        static int pushSize(int count) {
+            return count + (count < 76 ? 1 : count < 256 ? 2 : 3);
+        }
+
         void begin(long newVersion, long newLock) {
             version = newVersion;
             lock = newLock;
@@ -2556,7 +2556,7 @@ public final class CoinJudge {
                 return 2;
             }
             int b = best;
-            while (b > number) {
+            for (int steps = 0; steps < kept && b > number; steps++) {
                 b = blocks[b].parent;
             }
             return b == number ? 1 : 0;

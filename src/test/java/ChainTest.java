@@ -232,7 +232,7 @@ public final class ChainTest {
     }
 
     private static void bitsThatAreDue() {
-        long[] steps = {1, 150, 171, 172, 600, 685, 686, 900, 2742, 2743, 5000};
+        long[] steps = {1, 150, 171, 172, 600, 685, 686, 900, 1400, 1900, 2100, 2742, 2743, 5000};
         for (long step : steps) {
             Bench x = new Bench();
             long bits = Wire.EASIEST;

@@ -13,6 +13,7 @@ public final class JudgeTest {
         theTapeIsEmptyThen();
         bytesThatAreNoBlock();
         countsInTheShortestForm();
+        fullTapes();
         knownBlocks();
         targetsAndHashes();
         unknownParents();
@@ -92,6 +93,27 @@ public final class JudgeTest {
         byte[] wrong = tx253.clone();
         wrong[42]--;
         Check.same("252 as 253", x.judge(Wire.join(head, Wire.hex("01"), Arrays.copyOf(wrong, wrong.length - 1))), -1);
+    }
+
+    /** The end of a tape without room for more comes at every place of a transaction. */
+    private static void fullTapes() {
+        Bench x = new Bench();
+        byte[] head = Arrays.copyOf(x.block(0, 1000600), 80);
+        for (int size = 1380; size < 1480; size++) {
+            Wire.Tx long1 = new Wire.Tx().in(Wire.NO_HASH, Wire.MOST, new byte[size], 0).out(1, Wire.times(3, "fd"));
+            byte[] all = Wire.join(head, Wire.hex("01"), long1.bytes(), Wire.times(200, "fd"));
+            int want = 81 + long1.bytes().length == 1600 ? -6 : -1;
+            Check.same("a script of " + size, x.judge(Arrays.copyOf(all, 1600)), want);
+            Wire.Tx long2 = new Wire.Tx().in(Wire.NO_HASH, Wire.MOST, new byte[size - 50], 0);
+            all = Wire.join(head, Wire.hex("01"), Arrays.copyOf(long2.bytes(), 48 + size - 50), Wire.times(200, "fd"));
+            Check.same("long counts behind " + size, x.judge(Arrays.copyOf(all, 1600)), -1);
+        }
+        for (int size = 1470; size < 1490; size++) {
+            Wire.Tx long3 = new Wire.Tx().in(Wire.NO_HASH, Wire.MOST, new byte[size - 11], 0).out(1, Wire.hex("51"));
+            byte[] all = Wire.join(head, Wire.hex("01"), long3.bytes(), new byte[200]);
+            int want = 81 + long3.bytes().length == 1600 ? -6 : -1;
+            Check.same("a script before the end: " + size, x.judge(Arrays.copyOf(all, 1600)), want);
+        }
     }
 
     private static void knownBlocks() {
@@ -261,8 +283,9 @@ public final class JudgeTest {
     private static void asks() {
         String[] scripts = {"ac".repeat(60), "ac".repeat(61), "ad".repeat(60), "ad".repeat(61), "aeae ae", "aeaeaeac",
             "afafaf", "afafafad", "4cac" + "ac".repeat(172) + "ac".repeat(60), "02acac" + "ac".repeat(60),
-            "ac".repeat(60) + "05acacac", "ac".repeat(61) + "4d", "006a" + "ac".repeat(61)};
-        int[] want = {0, -9, 0, -9, 0, -9, 0, -9, 0, 0, 0, -9, -9};
+            "ac".repeat(60) + "05acacac", "ac".repeat(61) + "4d", "006a" + "ac".repeat(61),
+            "ab".repeat(61) + "b0".repeat(61)};
+        int[] want = {0, -9, 0, -9, 0, -9, 0, -9, 0, 0, 0, -9, -9, 0};
         for (int i = 0; i < scripts.length; i++) {
             Bench x = Bench.grown(1);
             Wire.Tx first = x.first(1).out(0, Wire.hex(scripts[i]));

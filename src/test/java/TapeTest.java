@@ -1,3 +1,4 @@
+import java.nio.charset.StandardCharsets;
 import java.util.Arrays;
 
 /** Promises 1 (the tape of a new object), 2 feed, 3 end, 4 patch, 6 digest, 19 word, and 15 for the tape. */
@@ -60,6 +61,9 @@ public final class TapeTest {
         Check.same("patch", x.judge.patch(1, 0x1280), 255);
         Check.same("patch again", x.judge.patch(1, -2), 128);
         Check.same("patched", x.tape(), Wire.hex("01fe03"));
+        Check.same("the first", x.judge.patch(0, 8), 1);
+        Check.same("the last", x.judge.patch(2, 9), 3);
+        Check.same("patched", x.tape(), Wire.hex("08fe09"));
         Check.outOfRange("patch -1", () -> x.judge.patch(-1, 1));
         Check.outOfRange("patch behind", () -> x.judge.patch(3, 1));
     }
@@ -76,12 +80,17 @@ public final class TapeTest {
         Check.noRoom("word -1", () -> x.judge.word(-1));
     }
 
-    private static void digestsOfAllLengths() {
-        Bench x = new Bench();
-        byte[] text = new byte[1600];
-        for (int i = 0; i < text.length; i++) {
+    private static byte[] pattern(int n) {
+        byte[] text = new byte[n];
+        for (int i = 0; i < n; i++) {
             text[i] = (byte) (7 * i + i / 256);
         }
+        return text;
+    }
+
+    private static void digestsOfAllLengths() {
+        Bench x = new Bench();
+        byte[] text = pattern(1600);
         for (int n = 0; n <= 1600; n += n < 200 ? 1 : 140) {
             byte[] part = Arrays.copyOf(text, n);
             x.tape(part);
@@ -107,17 +116,20 @@ public final class TapeTest {
         ripe("abcdefghijklmnopqrstuvwxyz", "f71c27109c692c1b56bbdceb5b9d2865b3708dbc");
         ripe("abcdbcdecdefdefgefghfghighijhijkijkljklmklmnlmnomnopnopq", "12a053384a9c0c88e405a06c27dcf49ada62eb2b");
         ripe("1234567890".repeat(8), "9b752e45573d4b39f4dbd3323cab82bf63326bfb");
+        ripe(pattern(128), "be8bccdcdc8a5cfaf872d10a92c75fe98311f3a8");
+        ripe(pattern(200), "5f46013eeca0be822ec2c04dfac8ec3a343722b9");
+        ripe(pattern(1600), "77b418235840dc66eb8fe73ae42ba12970a1115c");
     }
 
     private static void ripe(String text, String want) {
+        ripe(text.getBytes(StandardCharsets.US_ASCII), want);
+    }
+
+    private static void ripe(byte[] text, String want) {
         Bench x = new Bench();
-        byte[] bytes = new byte[text.length()];
-        for (int i = 0; i < bytes.length; i++) {
-            bytes[i] = (byte) text.charAt(i);
-        }
-        x.tape(bytes);
+        x.tape(text);
         Check.same("digest", x.judge.digest(1), 20);
-        Check.same("RIPE of " + text, x.tape(), Wire.hex(want));
+        Check.same("RIPE of " + text.length, x.tape(), Wire.hex(want));
     }
 
     private static void digestRefusesOthers() {
