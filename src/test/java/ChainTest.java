@@ -22,9 +22,11 @@ public final class ChainTest {
         aBadOneInTheMiddle();
         aWayBackAndForth();
         sameFirstTransactions();
+        sameOtherTransactions();
         bitsThatAreDue();
         workOfHarderChains();
         middles();
+        elevenTimes();
         Check.end();
     }
 
@@ -231,6 +233,30 @@ public final class ChainTest {
         Check.same("ripe there at height 8", x.add(11, spend), 0);
     }
 
+    /** A first transaction that comes again can be spent again by the same one, whose coin then takes its place. */
+    private static void sameOtherTransactions() {
+        Wire.Tx same = Wire.firstTransaction(Wire.hex("0505"), 100);
+        Wire.Tx spend = new Wire.Tx().in(same, 0, EMPTY).out(60, Bench.TRUE).out(40, EMPTY);
+        Bench x = Bench.grown(1);
+        Check.same("at height 2", x.addAll(1, same), 0);
+        Check.same("plain", x.add(2), 0);
+        Check.same("plain", x.add(3), 0);
+        Check.same("spent at height 5", x.add(4, spend), 0);
+        Check.same("coins", x.judge.tell(5), 7);
+        Check.same("again at height 6", x.addAll(5, same), 0);
+        Check.same("plain", x.add(6), 0);
+        Check.same("plain", x.add(7), 0);
+        Check.same("coins", x.judge.tell(5), 10);
+        Check.same("spent again at height 9", x.add(8, spend), 0);
+        Check.same("its coins take the places", x.judge.tell(5), 10);
+        Check.same("by both", x.judge.coin(5, 1, 0), 60);
+        Check.same("by both", x.judge.coin(9, 1, 1), 40);
+        Wire.Tx last = new Wire.Tx().in(spend, 0, EMPTY).out(60, EMPTY);
+        Check.same("spent", x.add(9, last), 0);
+        Check.same("by both", x.judge.coin(5, 1, 0), -1);
+        Check.same("the other is left", x.judge.coin(5, 1, 1), 40);
+    }
+
     private static void bitsThatAreDue() {
         long[] steps = {1, 150, 171, 172, 600, 685, 686, 900, 1400, 1900, 2100, 2742, 2743, 5000};
         for (long step : steps) {
@@ -318,6 +344,24 @@ public final class ChainTest {
             long time = Math.max(times[h], middle + 1);
             times[h] = time;
             Check.same("above it", x.judge(x.block(h - 1, time)), 0);
+        }
+    }
+
+    /** The twelfth time back no longer counts: a high one in front shows it. */
+    private static void elevenTimes() {
+        Bench x = new Bench();
+        Check.same("plain", x.judge(x.block(0, 1000001)), 0);
+        Check.same("plain", x.judge(x.block(1, 1000002)), 0);
+        Check.same("a high one", x.judge(x.block(2, 9000000)), 0);
+        for (int h = 4; h <= 17; h++) {
+            long middle = x.judge.block(h - 1, 8);
+            long[] times = new long[Math.min(11, h)];
+            for (int i = 0; i < times.length; i++) {
+                times[i] = x.judge.block(h - 1 - i, 3);
+            }
+            Arrays.sort(times);
+            Check.same("middle below " + h, middle, times[times.length / 2]);
+            Check.same("above it", x.judge(x.block(h - 1, middle + 1)), 0);
         }
     }
 }
