@@ -332,8 +332,8 @@ public final class ChainTest {
 
     private static void middles() {
         Bench x = new Bench();
-        long[] times = {1000000, 1000900, 1000500, 1000700, 1000600, 2000000, 1000800, 1000701, 1000950, 1000901, 1000951,
-            1000802, 1000902, 1000952};
+        long[] times = {1000000, 1000900, 1000500, 1000700, 1000600, 2000000, 1000800, 1000701, 1000950, 1000901,
+            1000951, 1000802, 1000902, 1000952};
         for (int h = 1; h < times.length; h++) {
             int from = Math.max(0, h - 11);
             long[] before = Arrays.copyOfRange(times, from, h);

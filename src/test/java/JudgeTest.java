@@ -160,7 +160,7 @@ public final class JudgeTest {
         Bench x = new Bench();
         x.judge.seal(5);
         Check.same("no parent", x.judge(x.tape()), 4);
-        byte[] lost = Wire.mined(1, Wire.hex("77".repeat(32)), Wire.NO_HASH, 1, 0x207FFFFEL, 0x207FFFFEL, true, Wire.hex("00"));
+        byte[] lost = Wire.block(Wire.hex("77".repeat(32)), 1, 0x207FFFFEL);
         Check.same("before all behind it", x.judge(lost), 4);
         Check.same("nothing kept", x.judge.tell(2), 1);
         Check.same("no reason", x.judge.tell(1), 0);
@@ -207,10 +207,11 @@ public final class JudgeTest {
         Check.same("one id twice", x.judge(Wire.block(x.hash(3), 1002400, Wire.EASIEST, first, spend, spend)), -6);
         Check.same("first ones twice", x.judge(Wire.block(x.hash(3), 1002400, Wire.EASIEST, first, spend, first)), -6);
         Check.same("6 before 7", x.judge(Wire.block(x.hash(3), 1002400, Wire.EASIEST, spend, spend)), -6);
-        Check.same("none is 7, whatever the root",
-                x.judge(Wire.mined(1, x.hash(3), wrong, 1002400, Wire.EASIEST, Wire.EASIEST, true, Wire.hex("00"))), -7);
+        byte[] none = Wire.mined(1, x.hash(3), wrong, 1002400, Wire.EASIEST, Wire.EASIEST, true, Wire.hex("00"));
+        Check.same("none is 7, whatever the root", x.judge(none), -7);
+        byte[] root = Wire.root(first.id(), spend.id());
         Check.same("version 2", x.judge(
-                Wire.mined(2, x.hash(3), Wire.root(first.id(), spend.id()), 1002400, Wire.EASIEST, Wire.EASIEST, true, body)), 0);
+                Wire.mined(2, x.hash(3), root, 1002400, Wire.EASIEST, Wire.EASIEST, true, body)), 0);
         Check.same("the same with version 1", x.judge(fine), 1);
         manyTransactions();
     }
@@ -241,7 +242,8 @@ public final class JudgeTest {
         Check.same("a first one of two", x.addAll(3, two), -7);
         Wire.Tx index = new Wire.Tx().in(Wire.NO_HASH, 0, Wire.hex("0101"), Wire.MOST).out(1, Bench.TRUE);
         Check.same("another index", x.addAll(3, index), -7);
-        Wire.Tx id = new Wire.Tx().in(Wire.hex("00".repeat(31) + "01"), Wire.MOST, Wire.hex("0101"), 1).out(1, Bench.TRUE);
+        byte[] one = Wire.hex("00".repeat(31) + "01");
+        Wire.Tx id = new Wire.Tx().in(one, Wire.MOST, Wire.hex("0101"), 1).out(1, Bench.TRUE);
         Check.same("another id", x.addAll(3, id), -7);
         Check.same("no input at first", x.addAll(3, new Wire.Tx().out(1, Bench.TRUE)), -7);
         Wire.Tx noOutput = new Wire.Tx().in(Wire.NO_HASH, Wire.MOST, Wire.hex("0101"), Wire.MOST);
@@ -270,12 +272,13 @@ public final class JudgeTest {
         int[] want = {-8, -8, 0, 0, -8};
         for (int i = 0; i < sizes.length; i++) {
             Bench y = Bench.grown(1);
-            Check.same("a first script of " + sizes[i], y.addAll(1, Wire.firstTransaction(new byte[sizes[i]], 9)), want[i]);
+            Wire.Tx first = Wire.firstTransaction(new byte[sizes[i]], 9);
+            Check.same("a first script of " + sizes[i], y.addAll(1, first), want[i]);
         }
         Wire.Tx none = new Wire.Tx().in(COIN_0, 0, EMPTY, 0).in(Wire.NO_HASH, Wire.MOST, EMPTY, 0).out(1, EMPTY);
         Check.same("NONE among others", x.add(3, none), -8);
-        Wire.Tx same = new Wire.Tx().in(COIN_0, 0, EMPTY, 0).in(COIN_0, 1, EMPTY, 0).in(COIN_0, 0, Bench.TRUE, 1).out(1, EMPTY);
-        Check.same("one input twice", x.add(3, same), -8);
+        Wire.Tx same = new Wire.Tx().in(COIN_0, 0, EMPTY, 0).in(COIN_0, 1, EMPTY, 0).in(COIN_0, 0, Bench.TRUE, 1);
+        Check.same("one input twice", x.add(3, same.out(1, EMPTY)), -8);
         Wire.Tx other = new Wire.Tx().in(COIN_0, 0, EMPTY, 0).in(COIN_0, 256, EMPTY, 0).out(1, EMPTY);
         Check.same("another index is another one", x.add(3, other), -11);
     }

@@ -35,7 +35,8 @@ public final class RunsTest {
                     String[] words = line.split(" ");
                     String got = answer(judge, words);
                     boolean same = got.equals(words[words.length - 1]);
-                    Check.same(same ? "" : file + ":" + number + " " + run + ": " + line + " answered " + got, same ? 1 : 0, 1);
+                    String what = same ? "" : file + ":" + number + " " + run + ": " + line + " answered " + got;
+                    Check.same(what, same ? 1 : 0, 1);
                 }
             }
         }

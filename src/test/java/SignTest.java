@@ -159,7 +159,8 @@ public final class SignTest {
         String[] failing = {"3006020105020106", "300602010502010603 03", "310602010502010603", "300502010502010603",
             "300702010502010603", "300603010502010603", "300602010503010603", "300602018502010603",
             "300602010502018603", "30070202000502010603", "30070201050202000603", "30050200020106 03",
-            "30050201050200 03", "300602000202010603", "300602020105020003", "30", "00", "300602050502010603", "300602ff0502010603"};
+            "30050201050200 03", "300602000202010603", "300602020105020003", "30",
+            "00", "300602050502010603", "300602ff0502010603"};
         for (String form : failing) {
             Check.same("fails " + form, judgedSecond(key, Wire.hex(form), "ac91"), -14);
         }
@@ -232,7 +233,10 @@ public final class SignTest {
         Wire.Tx a = new Wire.Tx().in(made, 0, EMPTY).out(1, Bench.TRUE);
         byte[] script = Wire.hex("00");
         for (int key : by) {
-            byte[] signature = key == 0 ? EMPTY : key < 0 ? Wire.hex("30") : Ec.signature(key, a.signedHash(0, lock, 1), 1);
+            byte[] signature = key == 0 ? EMPTY : Wire.hex("30");
+            if (key > 0) {
+                signature = Ec.signature(key, a.signedHash(0, lock, 1), 1);
+            }
             script = Wire.join(script, Wire.push(signature));
         }
         a.ins.set(0, new Wire.In(made.id(), 0, script, Wire.MOST));
