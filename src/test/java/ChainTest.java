@@ -1,4 +1,3 @@
-import java.math.BigInteger;
 import java.util.Arrays;
 
 /** Promises 1, 14, 16 block, 17 coin, 18 coins: chains that compete, bits that are due, what is taken back. */
@@ -11,6 +10,7 @@ public final class ChainTest {
 
     public static void main(String[] args) {
         aNewObject();
+        objectsDoNotMix();
         blocksAreTold();
         blockRefusesOthers();
         coinsAreTold();
@@ -23,10 +23,6 @@ public final class ChainTest {
         aWayBackAndForth();
         sameFirstTransactions();
         sameOtherTransactions();
-        bitsThatAreDue();
-        workOfHarderChains();
-        middles();
-        elevenTimes();
         Check.end();
     }
 
@@ -46,6 +42,16 @@ public final class ChainTest {
         Bench y = Bench.grown(2);
         Wire.Tx spend = new Wire.Tx().in(COIN_0, 0, EMPTY, Wire.MOST).out(5000000000L, EMPTY);
         Check.same("its coin unlocks as others do", y.add(2, spend), 0);
+    }
+
+    private static void objectsDoNotMix() {
+        Bench x = Bench.grown(2);
+        Bench y = new Bench();
+        x.judge.tx(1, 0);
+        x.tape("0102");
+        Check.same("a new one is new", y.state(), new Bench().state());
+        Check.same("the old one stays", x.judge.tell(2), 3);
+        Check.same("and its tape", x.judge.word(0), 0x0102000000000000L);
     }
 
     private static void blocksAreTold() {
@@ -255,113 +261,5 @@ public final class ChainTest {
         Check.same("spent", x.add(9, last), 0);
         Check.same("by both", x.judge.coin(5, 1, 0), -1);
         Check.same("the other is left", x.judge.coin(5, 1, 1), 40);
-    }
-
-    private static void bitsThatAreDue() {
-        long[] steps = {1, 150, 171, 172, 600, 685, 686, 900, 1400, 1900, 2100, 2742, 2743, 5000};
-        for (long step : steps) {
-            Bench x = new Bench();
-            long bits = Wire.EASIEST;
-            for (int h = 1; h <= 17; h++) {
-                int parent = h - 1;
-                if (h % 8 == 0) {
-                    long span = x.judge.block(parent, 3) - x.judge.block(h - 8, 3);
-                    bits = due(bits, span);
-                }
-                Check.same("bits due at " + h + " with " + step, x.due(parent), bits);
-                long other = bits == Wire.EASIEST ? bits - 1 : bits + 1;
-                if (h % 8 == 0) {
-                    Check.same("others", x.judge(Wire.block(x.hash(parent), Wire.MOST, other, x.first(parent))), -4);
-                }
-                Check.same("judged", x.judge(x.block(parent, x.judge.block(parent, 3) + step)), 0);
-                Check.same("told", x.judge.block(h, 4), bits);
-            }
-        }
-        backInTime();
-    }
-
-    /** A time may lie before that of its parent: then the span is the least one. */
-    private static void backInTime() {
-        Bench x = new Bench();
-        for (int h = 1; h < 7; h++) {
-            Check.same("judged", x.judge(x.block(h - 1, 2000000 + h)), 0);
-        }
-        Check.same("back", x.judge(x.block(6, 2000004)), 0);
-        Check.same("due", x.due(7), due(Wire.EASIEST, 1000004));
-        Bench y = new Bench();
-        Check.same("judged", y.judge(y.block(0, 3000000)), 0);
-        for (int h = 2; h < 8; h++) {
-            Check.same("judged", y.judge(y.block(h - 1, y.judge.block(h - 1, 8) + 1)), 0);
-        }
-        Check.same("due", y.due(7), due(Wire.EASIEST, y.judge.block(7, 3) - 1000000));
-    }
-
-    private static long due(long bits, long span) {
-        long bounded = Math.max(1200, Math.min(19200, span));
-        BigInteger target = Wire.target(bits).multiply(BigInteger.valueOf(bounded)).divide(BigInteger.valueOf(4800));
-        return Wire.bits(target.min(Wire.target(Wire.EASIEST)));
-    }
-
-    private static void workOfHarderChains() {
-        Bench x = new Bench();
-        BigInteger work = BigInteger.TWO;
-        for (int h = 1; h <= 25; h++) {
-            Check.same("judged", x.judge(x.block(h - 1, x.judge.block(h - 1, 3) + 1)), 0);
-            BigInteger target = Wire.target(x.judge.block(h, 4));
-            work = work.add(BigInteger.ONE.shiftLeft(256).divide(target.add(BigInteger.ONE)));
-            Check.same("work at " + h, x.judge.block(h, 7), work.longValue());
-        }
-        // From height 7 on: slow blocks have less work than the fast ones, so more of them must come.
-        Bench y = new Bench();
-        for (int h = 1; h <= 7; h++) {
-            Check.same("judged", y.judge(y.block(h - 1, 1000000 + h)), 0);
-        }
-        Check.same("a hard one", y.add(7), 0);
-        Check.same("work", y.judge.block(8, 7), 16 + 8);
-        Check.same("another seventh", y.judge(y.block(6, 1100000)), 1);
-        int parent = 9;
-        for (int i = 0; i < 4; i++) {
-            Check.same("easy ones on it", y.add(parent), 1);
-            parent++;
-        }
-        Check.same("as much work", y.judge.block(parent, 7), 24);
-        Check.same("more blocks, no more work", y.judge.tell(3), 8);
-        Check.same("more work", y.add(parent), 2);
-        Check.same("the best", y.judge.tell(4), 12);
-    }
-
-    private static void middles() {
-        Bench x = new Bench();
-        long[] times = {1000000, 1000900, 1000500, 1000700, 1000600, 2000000, 1000800, 1000701, 1000950, 1000901,
-            1000951, 1000802, 1000902, 1000952};
-        for (int h = 1; h < times.length; h++) {
-            int from = Math.max(0, h - 11);
-            long[] before = Arrays.copyOfRange(times, from, h);
-            Arrays.sort(before);
-            long middle = before[before.length / 2];
-            Check.same("middle below " + h, x.judge.block(h - 1, 8), middle);
-            Check.same("not above it", x.judge(x.block(h - 1, middle)), -5);
-            long time = Math.max(times[h], middle + 1);
-            times[h] = time;
-            Check.same("above it", x.judge(x.block(h - 1, time)), 0);
-        }
-    }
-
-    /** The twelfth time back no longer counts: a high one in front shows it. */
-    private static void elevenTimes() {
-        Bench x = new Bench();
-        Check.same("plain", x.judge(x.block(0, 1000001)), 0);
-        Check.same("plain", x.judge(x.block(1, 1000002)), 0);
-        Check.same("a high one", x.judge(x.block(2, 9000000)), 0);
-        for (int h = 4; h <= 17; h++) {
-            long middle = x.judge.block(h - 1, 8);
-            long[] times = new long[Math.min(11, h)];
-            for (int i = 0; i < times.length; i++) {
-                times[i] = x.judge.block(h - 1 - i, 3);
-            }
-            Arrays.sort(times);
-            Check.same("middle below " + h, middle, times[times.length / 2]);
-            Check.same("above it", x.judge(x.block(h - 1, middle + 1)), 0);
-        }
     }
 }

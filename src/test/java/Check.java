@@ -19,9 +19,13 @@ final class Check {
     }
 
     static void same(String what, byte[] got, byte[] want) {
+        same(what, Wire.hex(got), Wire.hex(want));
+    }
+
+    static void same(String what, String got, String want) {
         asked++;
-        if (!Wire.hex(got).equals(Wire.hex(want))) {
-            tell(what, Wire.hex(got), Wire.hex(want));
+        if (!got.equals(want)) {
+            tell(what, got, want);
         }
     }
 

@@ -10,15 +10,21 @@ public final class DraftTest {
     public static void main(String[] args) {
         theFirstDraftIsEmpty();
         openTakesAnyKeptBlock();
+        openTakesBadOnesToo();
         openRefusesOthers();
         txCountsToTwelve();
         inputsOfAllKinds();
+        inputsOfAllBlocks();
         inputRefusesInOrder();
         outputsOfAllKinds();
         scriptsHaveAtMost600Bytes();
+        scriptsOfAllLengths();
         pushesOfAllLengths();
+        pushesToTheLatest();
         pushRefusesInOrder();
         sealSpoils();
+        rootsThatAreSpoilt();
+        theDraftStays();
         sealRefusesLongOnes();
         sealEndsAtNonce4095();
         Check.end();
@@ -48,12 +54,21 @@ public final class DraftTest {
         x.judge.open(-1, 0);
         same("on the best one", x, Wire.block(x.hash(2), 0, Wire.EASIEST));
         x.add(2);
-        x.judge.open(-1, 0);
+        x.judge.open(-1, 9);
         x.add(4);
-        same("the best one as it was", x, Wire.block(x.hash(4), 5000000, Wire.EASIEST));
+        same("the best one as it was", x, Wire.block(x.hash(4), 9, Wire.EASIEST));
         x.judge.tx(1, 0);
         x.judge.open(1, 7);
         Check.same("without transactions", x.judge.tell(6), 0);
+    }
+
+    private static void openTakesBadOnesToo() {
+        Bench x = Bench.grown(1);
+        Check.same("bad", x.addAll(1, Wire.firstTransaction(Wire.hex("0101"), 5000000001L)), -15);
+        x.judge.open(2, 1001800);
+        same("on a bad one", x, Wire.block(x.hash(2), 1001800, Wire.EASIEST));
+        x.judge.open(-1, 1001800);
+        same("the best one is no bad one", x, Wire.block(x.hash(1), 1001800, Wire.EASIEST));
     }
 
     private static void openRefusesOthers() {
@@ -76,7 +91,7 @@ public final class DraftTest {
         Wire.Tx[] all = new Wire.Tx[12];
         for (int i = 0; i < 12; i++) {
             all[i] = new Wire.Tx();
-            all[i].version = Wire.MOST - i;
+            all[i].version = i == 5 ? 0 : Wire.MOST - i;
             all[i].lock = i == 0 ? Wire.MOST : i;
             Check.same("tx", x.judge.tx(all[i].version, all[i].lock), i + 1);
             Check.same("told", x.judge.tell(6), i + 1);
@@ -110,6 +125,29 @@ public final class DraftTest {
         Check.same("of block 1", x.judge.input(1, 0, 0, 1), 2);
         b.in(Wire.twice(id), 0, EMPTY, 1);
         same("inputs", x, Wire.block(x.hash(0), 1000600, Wire.EASIEST, a, b));
+    }
+
+    /** Transactions of blocks on the best chain, stored and bad, and not just their first ones. */
+    private static void inputsOfAllBlocks() {
+        Bench x = Bench.grown(3);
+        Wire.Tx a = new Wire.Tx().in(Bench.COIN_0, 0, EMPTY, 0).out(5, Bench.TRUE);
+        Wire.Tx b = new Wire.Tx().in(a, 0, EMPTY).out(4, Bench.TRUE);
+        Check.same("two more", x.add(3, a, b), 0);
+        Wire.Tx c = new Wire.Tx().in(Bench.COIN_0, 0, EMPTY, 0).out(6, Bench.TRUE);
+        Check.same("stored", x.add(3, c), 1);
+        Wire.Tx d = new Wire.Tx().in(Bench.COIN_0, 7, EMPTY, 0).out(7, Bench.TRUE);
+        Check.same("bad", x.add(4, d), -11);
+        x.judge.open(4, 1003000);
+        x.judge.tx(1, 0);
+        x.judge.input(4, 1, 1, 1);
+        x.judge.input(4, 2, 2, 2);
+        x.judge.input(5, 1, 3, 3);
+        x.judge.input(6, 1, 4, 4);
+        Check.outOfRange("no third one", () -> x.judge.input(4, 3, 0, 0));
+        Check.outOfRange("no second one", () -> x.judge.input(5, 2, 0, 0));
+        Wire.Tx want = new Wire.Tx().in(a.id(), 1, EMPTY, 1).in(b.id(), 2, EMPTY, 2).in(c.id(), 3, EMPTY, 3)
+                .in(d.id(), 4, EMPTY, 4);
+        same("of four", x, Wire.block(x.hash(4), 1003000, Wire.EASIEST, want));
     }
 
     private static void inputRefusesInOrder() {
@@ -168,6 +206,20 @@ public final class DraftTest {
         same("long scripts", x, Wire.block(x.hash(0), 1000600, Wire.EASIEST, a));
     }
 
+    private static void scriptsOfAllLengths() {
+        for (int n : new int[] {1, 127, 128, 252, 253, 255, 256, 599, 600}) {
+            Bench x = new Bench();
+            byte[] script = Wire.times(n, "ab");
+            x.judge.tx(1, 0);
+            x.tape(script);
+            x.judge.input(-1, 0, 0, 1);
+            x.tape(script);
+            x.judge.output(2);
+            Wire.Tx a = new Wire.Tx().in(Wire.NO_HASH, Wire.MOST, script, 1).out(2, script);
+            same("scripts of " + n, x, Wire.block(x.hash(0), 1000600, Wire.EASIEST, a));
+        }
+    }
+
     private static void pushesOfAllLengths() {
         int[] lengths = {0, 1, 75, 76, 77, 255, 256, 257, 597};
         for (int n : lengths) {
@@ -182,6 +234,26 @@ public final class DraftTest {
             Wire.Tx a = new Wire.Tx().in(Wire.NO_HASH, Wire.MOST, EMPTY, 9).in(Wire.NO_HASH, Wire.MOST, want, 8);
             same("a push of " + n, x, Wire.block(x.hash(0), 1000600, Wire.EASIEST, a));
         }
+    }
+
+    private static void pushesToTheLatest() {
+        Bench x = new Bench();
+        Wire.Tx[] all = {new Wire.Tx(), new Wire.Tx()};
+        for (int t = 0; t < 2; t++) {
+            x.judge.tx(1, 0);
+            for (int i = 0; i < 6; i++) {
+                x.tape("0" + i);
+                x.judge.input(-1, 0, 0, i);
+                byte[] script = Wire.hex(t == 1 && i == 5 ? "05 02 ee0f 00" : t == 1 && i == 0 ? "00 01 77" : "0" + i);
+                all[t].in(Wire.NO_HASH, Wire.MOST, script, i);
+            }
+        }
+        x.tape("ee0f");
+        Check.same("to the sixth", x.judge.push(5), 4);
+        Check.same("a push of nothing", x.judge.push(5), 5);
+        x.tape("77");
+        Check.same("to the first", x.judge.push(0), 3);
+        same("pushed", x, Wire.block(x.hash(0), 1000600, Wire.EASIEST, all));
     }
 
     private static void pushRefusesInOrder() {
@@ -243,6 +315,38 @@ public final class DraftTest {
         Check.same("the tape stays", x.judge.tell(0), 80 + body.length);
     }
 
+    private static void rootsThatAreSpoilt() {
+        Bench x = new Bench();
+        byte[] one = Wire.join(Wire.hex("01"), new byte[31]);
+        x.judge.seal(1);
+        Check.same("of none", x.tape(),
+                Wire.mined(1, x.hash(0), one, 1000600, Wire.EASIEST, Wire.EASIEST, true, Wire.hex("00")));
+        Wire.Tx a = new Wire.Tx();
+        while (a.id()[0] != -1) {
+            a.version++;
+        }
+        byte[] wrong = a.id();
+        wrong[0] = 0;
+        x.judge.tx(a.version, 0);
+        x.judge.seal(1);
+        byte[] body = Wire.join(Wire.hex("01"), a.bytes());
+        Check.same("one more than 255 is 0, and no other byte changes", x.tape(),
+                Wire.mined(1, x.hash(0), wrong, 1000600, Wire.EASIEST, Wire.EASIEST, true, body));
+    }
+
+    private static void theDraftStays() {
+        Bench x = new Bench();
+        x.draft(600);
+        x.judge.seal(0);
+        byte[] drawn = x.tape();
+        Check.same("judged", x.judge.judge(), 0);
+        Check.same("its transactions", x.judge.tell(6), 1);
+        same("its parent too", x, drawn);
+        Check.same("known", x.judge.judge(), 3);
+        x.judge.output(7);
+        Check.same("it goes on", x.judge.seal(0), drawn.length + 9);
+    }
+
     private static void sealRefusesLongOnes() {
         Bench x = new Bench();
         x.judge.tx(1, 0);
@@ -270,32 +374,23 @@ public final class DraftTest {
         Check.same("1600 bytes", x.judge.seal(0), 1600);
     }
 
-    /** Each eighth block makes the target four times harder here, until no nonce of 4096 may do. */
+    /** Each eighth block makes the target four times harder here, until none of 4096 nonces reaches it. */
     private static void sealEndsAtNonce4095() {
         Bench x = new Bench();
-        boolean ended = false;
-        for (int h = 1; h < 60 && !ended; h++) {
-            int parent = h - 1;
-            x.judge.open(-1, x.judge.block(parent, 3) + 1);
-            x.judge.tx(1, 0);
-            x.tape(Wire.number(h, 2));
-            x.judge.input(-1, 0, 0, Wire.MOST);
-            x.tape("51");
-            x.judge.output(1);
-            x.judge.seal(0);
-            byte[] drawn = x.tape();
-            long bits = Wire.low(Arrays.copyOfRange(drawn, 72, 76)).longValue();
-            Wire.Tx only = Wire.firstTransaction(Wire.number(h, 2), 1);
-            byte[] want = Wire.block(x.hash(parent), x.judge.block(parent, 3) + 1, bits, only);
-            Check.same("sealed at height " + h, drawn, want);
-            ended = Wire.low(Wire.hashOf(drawn)).compareTo(Wire.target(bits)) > 0;
-            if (ended) {
-                Check.same("the last nonce", Wire.low(Arrays.copyOfRange(drawn, 76, 80)).longValue(), 4095);
-                Check.same("judged", x.judge(drawn), -2);
-            } else {
-                Check.same("judged", x.judge(drawn), 0);
-            }
+        while (x.last() < 58 && reached(x, x.plain(1))) {
+            x.grow(1);
         }
-        Check.same("no nonce did", ended ? 1 : 0, 1);
+        byte[] want = x.plain(1);
+        Check.same("the last nonce", Wire.low(Arrays.copyOfRange(want, 76, 80)).longValue(), 4095);
+        x.draft(1);
+        same("none reaches it", x, want);
+        Check.same("judged", x.judge(want), -2);
+        x.draft(1);
+        x.judge.seal(3);
+        Check.same("the first one is above it", x.judge.word(76) >>> 32, 0);
+    }
+
+    private static boolean reached(Bench x, byte[] block) {
+        return Wire.low(Wire.hashOf(block)).compareTo(Wire.target(x.due(x.last()))) <= 0;
     }
 }

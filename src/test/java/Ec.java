@@ -4,14 +4,15 @@ import java.math.BigInteger;
 final class Ec {
     static final BigInteger P = new BigInteger("FFFFFFFFFFFFFFFFFFFFFFFFFFFFFFFFFFFFFFFFFFFFFFFFFFFFFFFEFFFFFC2F", 16);
     static final BigInteger N = new BigInteger("FFFFFFFFFFFFFFFFFFFFFFFFFFFFFFFEBAAEDCE6AF48A03BBFD25E8CD0364141", 16);
-    private static final BigInteger[] G = {
+    static final BigInteger[] G = {
         new BigInteger("79BE667EF9DCBBAC55A06295CE870B07029BFCDB2DCE28D959F2815B16F81798", 16),
         new BigInteger("483ADA7726A3C4655DA4FBFC0E1108A8FD17B448A68554199C47D08FFB10D4B8", 16)};
 
     private Ec() {
     }
 
-    private static BigInteger[] add(BigInteger[] a, BigInteger[] b) {
+    /** Of two points, null being the one without coordinates. */
+    static BigInteger[] add(BigInteger[] a, BigInteger[] b) {
         if (a == null || b == null) {
             return a == null ? b : a;
         }
@@ -27,13 +28,27 @@ final class Ec {
         return new BigInteger[] {x, slope.multiply(a[0].subtract(x)).subtract(a[1]).mod(P)};
     }
 
-    private static BigInteger[] times(BigInteger k) {
+    static BigInteger[] times(BigInteger k, BigInteger[] point) {
         BigInteger[] sum = null;
         for (int bit = k.bitLength() - 1; bit >= 0; bit--) {
             sum = add(sum, sum);
-            sum = k.testBit(bit) ? add(sum, G) : sum;
+            sum = k.testBit(bit) ? add(sum, point) : sum;
         }
         return sum;
+    }
+
+    /** A point with this x; null if there is none. */
+    static BigInteger[] lift(BigInteger x) {
+        BigInteger square = x.pow(3).add(BigInteger.valueOf(7)).mod(P);
+        BigInteger y = square.modPow(P.add(BigInteger.ONE).shiftRight(2), P);
+        return y.pow(2).mod(P).equals(square) ? new BigInteger[] {x, y} : null;
+    }
+
+    /** The key by which r, the x of this point, and s are a good signature of h. */
+    static BigInteger[] keyFor(BigInteger[] point, BigInteger s, BigInteger h) {
+        BigInteger turned = point[0].mod(N).modInverse(N);
+        BigInteger ofBase = h.negate().multiply(turned).mod(N);
+        return add(times(s.multiply(turned).mod(N), point), times(ofBase, G));
     }
 
     static byte[] high(BigInteger number) {
@@ -45,7 +60,10 @@ final class Ec {
     }
 
     static byte[] key(long n, boolean whole) {
-        BigInteger[] point = times(BigInteger.valueOf(n));
+        return bytes(times(BigInteger.valueOf(n), G), whole);
+    }
+
+    static byte[] bytes(BigInteger[] point, boolean whole) {
         if (whole) {
             return Wire.join(Wire.hex("04"), high(point[0]), high(point[1]));
         }
@@ -63,7 +81,7 @@ final class Ec {
     static BigInteger[] numbers(long n, byte[] h) {
         BigInteger key = BigInteger.valueOf(n);
         BigInteger k = new BigInteger(1, Wire.sha(Wire.join(high(key), h))).mod(N);
-        BigInteger r = times(k)[0].mod(N);
+        BigInteger r = times(k, G)[0].mod(N);
         BigInteger s = new BigInteger(1, h).add(r.multiply(key)).multiply(k.modInverse(N)).mod(N);
         return new BigInteger[] {r, s};
     }

@@ -112,17 +112,7 @@ public final class ScriptTest {
     }
 
     private static void check(String what, byte[] script, byte[] lock, boolean yes) {
-        Check.same(what, spend(script, lock, 0, Wire.MOST), yes ? 0 : -14);
-    }
-
-    /** The answer to a block that makes an output of one script and spends it by the other. */
-    private static int spend(byte[] script, byte[] lock, long lockTime, long sequence) {
-        Bench x = Bench.grown(3);
-        byte[] id = Wire.firstTransaction(Wire.hex("0000"), 5000000000L).id();
-        Wire.Tx made = new Wire.Tx().in(id, 0, new byte[0], Wire.MOST).out(1, lock);
-        Wire.Tx spender = new Wire.Tx().in(made.id(), 0, script, sequence).out(1, Bench.TRUE);
-        spender.lock = lockTime;
-        return x.add(3, made, spender);
+        Check.same(what, Bench.spend(script, lock, 0, Wire.MOST), yes ? 0 : -14);
     }
 
     private static void limits() {
@@ -154,16 +144,9 @@ public final class ScriptTest {
         check("21 keys", Wire.join(Wire.hex("00 00"), Wire.times(21, "51")), Wire.hex("0115ae"), false);
     }
 
-    private static byte[] hashOf(byte[] inner) {
-        Bench x = new Bench();
-        x.tape(inner);
-        x.judge.digest(2);
-        return Wire.join(Wire.hex("a914"), x.tape(), Wire.hex("87"));
-    }
-
     private static void inner(String what, String before, String script, boolean yes) {
         byte[] inner = Wire.hex(script);
-        check(what, Wire.join(Wire.hex(before), Wire.push(inner)), hashOf(inner), yes);
+        check(what, Wire.join(Wire.hex(before), Wire.push(inner)), Bench.lockOf(inner), yes);
     }
 
     private static void innerScripts() {
@@ -180,7 +163,7 @@ public final class ScriptTest {
         inner("80 is a push, but fails", "50", "51", false);
         inner("no inner one in an inner one", "01 00", "a914 da1745e9b549bd0bfa1a569971c77eba30cd5a4b 87", false);
         byte[] longest = Wire.join(Wire.times(519, "51"), Wire.hex("51"));
-        check("520 bytes", Wire.push(longest), hashOf(longest), true);
+        check("520 bytes", Wire.push(longest), Bench.lockOf(longest), true);
     }
 
     /** Height 4 is the block's, 1002400 its parent's time. */
@@ -198,12 +181,12 @@ public final class ScriptTest {
         lock("a time for a height", "04 0065cd1d b1", 3, 0, false);
         lock("not done", "51 00 63 54 b1 68", 3, 0, true);
         // 500000000 is the first time; times of blocks lie below it here, so it stays open.
-        Check.same("a lock that is no last one", spend(new byte[0], Wire.hex("51"), 500000000, 0), -10);
+        Check.same("a lock that is no last one", Bench.spend(new byte[0], Wire.hex("51"), 500000000, 0), -10);
         timeLocks();
     }
 
     private static void lock(String what, String script, long lock, long sequence, boolean yes) {
-        Check.same(what, spend(new byte[0], Wire.hex(script), lock, sequence), yes ? 0 : -14);
+        Check.same(what, Bench.spend(new byte[0], Wire.hex(script), lock, sequence), yes ? 0 : -14);
     }
 
     private static void timeLocks() {

@@ -48,10 +48,18 @@ public final class TapeTest {
         Check.outOfRange("end -1", () -> x.judge.end(-1));
         Check.outOfRange("end beyond", () -> x.judge.end(6));
         Check.same("end of all", x.judge.end(5), 5);
+        Check.same("keeps all", x.tape(), Wire.hex("0102030405"));
         Check.same("end", x.judge.end(2), 2);
         Check.same("cut", x.tape(), Wire.hex("0102"));
         x.judge.feed(-1, -1, -1, -1, -1);
         Check.same("feed behind", x.judge.word(0), 0x0102ffffffffffffL);
+        Check.same("end of nothing again", x.judge.end(0), 0);
+        Check.same("told", x.judge.tell(0), 0);
+        Bench full = new Bench();
+        full.tape(pattern(1600));
+        Check.same("end of 1600", full.judge.end(1600), 1600);
+        Check.same("end of 1599", full.judge.end(1599), 1599);
+        Check.outOfRange("it does not come back", () -> full.judge.end(1600));
     }
 
     private static void patchChangesOneByte() {
@@ -66,6 +74,19 @@ public final class TapeTest {
         Check.same("patched", x.tape(), Wire.hex("08fe09"));
         Check.outOfRange("patch -1", () -> x.judge.patch(-1, 1));
         Check.outOfRange("patch behind", () -> x.judge.patch(3, 1));
+        int[] given = {255, 256, -1, 0x7fffff80, Integer.MIN_VALUE};
+        int[] lowest = {255, 0, 255, 128, 0};
+        for (int i = 0; i < given.length; i++) {
+            x.judge.patch(0, given[i]);
+            Check.same("the lowest byte of " + given[i], x.judge.patch(0, 7), lowest[i]);
+        }
+        Bench full = new Bench();
+        full.tape(pattern(1600));
+        Check.same("byte 1599", full.judge.patch(1599, 1), pattern(1600)[1599] & 255);
+        Check.same("patched", full.judge.word(1599), 1L << 56);
+        Check.outOfRange("byte 1600", () -> full.judge.patch(1600, 1));
+        full.judge.end(4);
+        Check.outOfRange("a byte that was cut", () -> full.judge.patch(4, 1));
     }
 
     private static void wordReadsBeyondTheEnd() {
@@ -78,6 +99,16 @@ public final class TapeTest {
         Check.same("word 9", x.judge.word(9), 0x0a00000000000000L);
         Check.noRoom("word 10", () -> x.judge.word(10));
         Check.noRoom("word -1", () -> x.judge.word(-1));
+        x.judge.feed(-1, -1, -1, -1, -1);
+        x.judge.end(12);
+        Check.same("what was cut is zeros", x.judge.word(8), 0x090affff00000000L);
+        Check.noRoom("what was cut is no byte", () -> x.judge.word(12));
+        Bench full = new Bench();
+        full.tape(Wire.times(800, "fedc"));
+        Check.same("the last eight of 1600", full.judge.word(1592), 0xfedcfedcfedcfedcL);
+        Check.same("the last seven", full.judge.word(1593), 0xdcfedcfedcfedc00L);
+        Check.same("the last one", full.judge.word(1599), 0xdc00000000000000L);
+        Check.noRoom("word 1600", () -> full.judge.word(1600));
     }
 
     private static byte[] pattern(int n) {
@@ -89,9 +120,9 @@ public final class TapeTest {
     }
 
     private static void digestsOfAllLengths() {
-        Bench x = new Bench();
         byte[] text = pattern(1600);
         for (int n = 0; n <= 1600; n += n < 200 ? 1 : 140) {
+            Bench x = new Bench();
             byte[] part = Arrays.copyOf(text, n);
             x.tape(part);
             Check.same("digest 0", x.judge.digest(0), 32);
