@@ -4,8 +4,8 @@ import java.util.Arrays;
 import java.util.List;
 
 /**
- * A judge with short ways to make blocks on it. The bench reckons heights, times and bits that are due by itself, of the
- * blocks that were kept: what it asks of the judge is what a test looks at.
+ * A judge with short ways to make blocks on it. The bench reckons heights, times and bits that are due by itself, of
+ * the blocks that were kept: what it asks of the judge is what a test looks at.
  */
 final class Bench {
     static final byte[] TRUE = Wire.hex("51");

@@ -87,7 +87,7 @@ public final class BitsTest {
         due("a little above it", x, Wire.EASIEST);
     }
 
-    /** 7FFFFF, 1FFFFF, 07FFFF, 01FFFF, then by two: FFFF80 has its highest bit set, so it is 00FFFF of one byte more. */
+    /** 7FFFFF, 1FFFFF, 07FFFF, 01FFFF, then by two: FFFF80 has its highest bit set, so it is 00FFFF, a byte more. */
     private static void theHighestBitOfThree() {
         Bench x = new Bench();
         long[] spans = {7, 7, 7, 2400, 7};

@@ -44,9 +44,14 @@ final class Ec {
         return y.pow(2).mod(P).equals(square) ? new BigInteger[] {x, y} : null;
     }
 
-    /** The key by which r, the x of this point, and s are a good signature of h. */
+    /** The key by which the x of this point, as r, and s are a good signature of h. */
     static BigInteger[] keyFor(BigInteger[] point, BigInteger s, BigInteger h) {
-        BigInteger turned = point[0].mod(N).modInverse(N);
+        return keyFor(point, point[0].mod(N), s, h);
+    }
+
+    /** The key by which r, s and h lead to this point. */
+    static BigInteger[] keyFor(BigInteger[] point, BigInteger r, BigInteger s, BigInteger h) {
+        BigInteger turned = r.modInverse(N);
         BigInteger ofBase = h.negate().multiply(turned).mod(N);
         return add(times(s.multiply(turned).mod(N), point), times(ofBase, G));
     }

@@ -19,6 +19,8 @@ public final class GoodTest {
         derOfAllForms();
         numbersAtTheirBounds();
         xBeyondTheOrder();
+        rBeyondThePrime();
+        nothingIsLeftOfTheOneBefore();
         sumsWithoutCoordinates();
         sumsOfTheSamePoint();
         keysOfAllForms();
@@ -95,7 +97,8 @@ public final class GoodTest {
             "300702010502010603", "300603010502010603", "300602010503010603", "300602018502010603",
             "300602010502018603", "30070202000502010603", "30070201050202000603", "30050200020106 03",
             "30050201050200 03", "300602000202010603", "300602020105020003", "30",
-            "00", "300602050502010603", "300602ff0502010603"};
+            "00", "300602050502010603", "300602ff0502010603", "30070202000002010603", "30070201050202000003",
+            "3007020200 7f 02010603", "3007020105 0202007f03", "3007 0202 8085 020106 03"};
         for (String form : failing) {
             Check.same("fails " + form, judgedSecond(key, Wire.hex(form), "ac91"), -14);
         }
@@ -156,6 +159,46 @@ public final class GoodTest {
             Check.same("x " + x, judgedFor(key, x.subtract(Ec.N), s, "ac"), 0);
             Check.same("another r", judgedFor(key, x.subtract(Ec.N).add(BigInteger.ONE), s, "ac91"), 0);
         }
+    }
+
+    /** The sum's x is r + n modulo the prime, but r + n is not below the prime: that is not r modulo n. */
+    private static void rBeyondThePrime() {
+        BigInteger x = lowX(BigInteger.ONE, 1);
+        BigInteger r = x.add(Ec.P).subtract(Ec.N);
+        BigInteger s = number(9);
+        BigInteger[] key = Ec.keyFor(Ec.lift(x), r, s, H);
+        Check.same("r " + r, judgedFor(key, r, s, "ac91"), 0);
+        Check.same("the least that is too high", Ec.P.subtract(Ec.N).compareTo(r) < 0 ? 1 : 0, 1);
+    }
+
+    /** A good signature is looked at first; then what is not good, with the same numbers as far as they go. */
+    private static void nothingIsLeftOfTheOneBefore() {
+        byte[] key = Ec.key(3, false);
+        BigInteger[] both = Ec.numbers(3, ONE);
+        byte[] good = Ec.der(both[0], both[1], 3);
+        byte[] whole = Ec.key(3, true);
+        byte[] off = whole.clone();
+        off[64] ^= 1;
+        byte[][] noKeys = {EMPTY, Arrays.copyOf(key, 32), Arrays.copyOf(key, 34), Arrays.copyOf(whole, 33), off,
+            Arrays.copyOf(whole, 64), Wire.join(Wire.hex("04"), Arrays.copyOfRange(key, 1, 33))};
+        for (byte[] none : noKeys) {
+            Check.same("no key of " + none.length, judgedPair(key, good, none, good), 0);
+        }
+        BigInteger[][] wrong = {{both[0], BigInteger.ZERO}, {both[0], Ec.N}, {both[0], both[1].add(Ec.N)},
+            {both[0].add(Ec.N), both[1]}, {BigInteger.ZERO, both[1]}, {both[0], BigInteger.ONE.shiftLeft(256)}};
+        for (BigInteger[] pair : wrong) {
+            Check.same("out of range " + pair[1], judgedPair(key, good, key, Ec.der(pair[0], pair[1], 3)), 0);
+        }
+        Check.same("nothing", judgedPair(key, good, key, EMPTY), 0);
+        Check.same("the same once more is good", judgedPair(key, good, key, good), -14);
+    }
+
+    /** The first key's signature must be good, the second key's not. */
+    private static int judgedPair(byte[] key, byte[] signature, byte[] other, byte[] otherSignature) {
+        byte[] lock = Wire.join(Wire.push(key), Wire.hex("ad"), Wire.push(other), Wire.hex("ac91"));
+        Wire.Tx made = locked(lock);
+        byte[] script = Wire.join(Wire.push(otherSignature), Wire.push(signature));
+        return spend(made, new Wire.Tx().in(made, 1, EMPTY).in(made, 0, script).out(1, Bench.TRUE));
     }
 
     /** h + r k is 0 modulo n: there is no x. */
@@ -301,7 +344,8 @@ public final class GoodTest {
     private static void pushesOfAllMAreNotSigned() {
         Wire.Tx made = locked(Bench.TRUE);
         Wire.Tx a = new Wire.Tx().in(made, 0, EMPTY).out(1, Bench.TRUE);
-        byte[] keys = Wire.join(Wire.hex("52"), Wire.push(Ec.key(4, false)), Wire.push(Ec.key(5, false)), Wire.hex("52af"));
+        byte[] keys = Wire.join(Wire.hex("52"), Wire.push(Ec.key(4, false)), Wire.push(Ec.key(5, false)),
+                Wire.hex("52af"));
         byte[] left = Wire.join(Wire.hex("00"), keys);
         byte[] first = Wire.push(Ec.signature(4, a.signedHash(0, left, 1), 1));
         byte[] second = Wire.push(Ec.signature(5, a.signedHash(0, left, 2), 2));

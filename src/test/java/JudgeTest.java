@@ -361,8 +361,9 @@ public final class JudgeTest {
 
     private static void asksThatDoNotCount() {
         String[] fine = {"4cac" + "ac".repeat(172) + "ac".repeat(60), "02acac" + "ac".repeat(60),
-            "ac".repeat(60) + "05acacac", "ac".repeat(60) + "4c", "ac".repeat(60) + "4dac", "ac".repeat(60) + "4eacacac",
-            "ac".repeat(60) + "4effffffffacac", "ab".repeat(61) + "b0".repeat(61) + "51".repeat(61)};
+            "ac".repeat(60) + "05acacac", "ac".repeat(60) + "4c", "ac".repeat(60) + "4dac",
+            "ac".repeat(60) + "4eacacac", "ac".repeat(60) + "4effffffffacac",
+            "ab".repeat(61) + "b0".repeat(61) + "51".repeat(61)};
         String[] wrong = {"ac".repeat(61) + "4d", "006a" + "ac".repeat(61), "0063" + "ac".repeat(61),
             "ff" + "ac".repeat(61), "4c01ac" + "ac".repeat(61)};
         for (String script : fine) {

@@ -262,8 +262,8 @@ public final class OperationTest {
 
     /** For 99, 100, 105, 115 and at the end: any byte not 0, but for 128 as the last one. */
     private static void whatIsTrue() {
-        String[] yes = {"0101", "0181", "01ff", "028000", "020100", "020180", "020081", "020001", "03008000", "03800000",
-            "04000000 01", "4f", "60"};
+        String[] yes = {"0101", "0181", "01ff", "028000", "020100", "020180", "020081", "020001", "03008000",
+            "03800000", "04000000 01", "4f", "60"};
         String[] no = {"00", "0100", "0180", "020000", "020080", "03000080", "4c00", "0400000080", "0400000000"};
         for (int i = 0; i < yes.length + no.length; i++) {
             boolean is = i < yes.length;

@@ -1,8 +1,8 @@
 import java.util.function.Consumer;
 
 /**
- * What is thrown, in which order, for every call that can throw: a number out of range first, then as the call says; and
- * that a call that throws changes nothing (judge, which says otherwise, is looked at in JudgeTest).
+ * What is thrown, in which order, for every call that can throw: a number out of range first, then as the call says;
+ * and that a call that throws changes nothing (judge, which says otherwise, is looked at in JudgeTest).
  */
 public final class RefusalTest {
     private static final Class<IllegalArgumentException> RANGE = IllegalArgumentException.class;

@@ -5,6 +5,9 @@ public final class SignTest {
     private static final byte[] EMPTY = new byte[0];
     private static final int[] TYPES = {0, 1, 2, 3, 4, 31, 32, 33, 34, 35, 65, 128, 129, 130, 131, 162, 163, 255};
 
+    /** Where the script of a draft's first input begins in the block. */
+    private static final int SCRIPT_AT = 81 + 5 + 36 + 1;
+
     private SignTest() {
     }
 
@@ -16,6 +19,7 @@ public final class SignTest {
         codesOfAllLengths();
         asItIsNow();
         oneBehindAnother();
+        numbersOfFewerBytes();
         upTo500Bytes();
         signRefusesInOrder();
         Check.end();
@@ -60,16 +64,20 @@ public final class SignTest {
     }
 
     private static void marksAreNotSigned() {
-        Bench x = new Bench();
-        Wire.Tx a = draft(x);
         // The last operation goes beyond the end: from it on all stays, the mark there too.
-        byte[] code = Wire.hex("ab 02abab ab ac 4c01ab ab 05abab");
-        byte[] left = Wire.hex("02abab ac 4c01ab 05abab");
-        byte[] want = Wire.push(Ec.signature(0x7fffffff, a.signedHash(0, left, 1), 1));
-        x.tape(code);
-        x.judge.sign(0, 0x7fffffff, 1);
-        x.judge.seal(0);
-        Check.same("signed", Arrays.copyOfRange(x.tape(), 81 + 5 + 36 + 2, 81 + 5 + 36 + 2 + want.length), want);
+        String[][] codes = {{"ab 02abab ab ac 4c01ab ab 05abab", "02abab ac 4c01ab 05abab"}, {"ab", ""},
+            {"abababab", ""}, {"01ab", "01ab"}, {"4cab", "4cab"}, {"ab4dabab", "4dabab"}, {"4d0100abab", "4d0100ab"},
+            {"4e01000000ab ab 4e01000000", "4e01000000ab 4e01000000"}, {"00 51 00 ab 00", "00 51 00 00"}};
+        for (String[] code : codes) {
+            Bench x = new Bench();
+            Wire.Tx a = draft(x);
+            byte[] want = Wire.push(Ec.signature(0x7fffffff, a.signedHash(0, Wire.hex(code[1]), 1), 1));
+            x.tape(code[0]);
+            x.judge.sign(0, 0x7fffffff, 1);
+            x.judge.seal(0);
+            int at = SCRIPT_AT + 1;
+            Check.same("code " + code[0], Arrays.copyOfRange(x.tape(), at, at + want.length), want);
+        }
     }
 
     /** A count of 253 bytes and more has three bytes, in what is signed too. */
@@ -83,7 +91,7 @@ public final class SignTest {
             Check.same("a code of " + n, x.judge.sign(1, 6, 1), 1 + want.length);
             Check.same("the tape is empty then", x.judge.tell(0), 0);
             x.judge.seal(0);
-            int at = 81 + 5 + 36 + 1 + 1 + 4 + 36 + 1 + 1;
+            int at = SCRIPT_AT + 1 + 4 + 36 + 1 + 1;
             Check.same("signed", Arrays.copyOfRange(x.tape(), at, at + want.length), want);
         }
     }
@@ -121,6 +129,25 @@ public final class SignTest {
         x.judge.seal(0);
         byte[] drawn = x.tape();
         Check.same("all three", Arrays.copyOfRange(drawn, 81, drawn.length), a.bytes());
+    }
+
+    /** Codes of which r, or s, has 31 bytes, with its first bit set (a 0 stands in front then) and without. */
+    private static void numbersOfFewerBytes() {
+        int[] codes = {602, 451, 210, 81};
+        int[] bits = {248, 247, 248, 247};
+        for (int i = 0; i < codes.length; i++) {
+            Bench x = new Bench();
+            Wire.Tx a = draft(x);
+            byte[] code = Wire.number(codes[i], 3);
+            byte[] h = a.signedHash(0, code, 1);
+            Check.same("bits of " + codes[i], Ec.numbers(4, h)[i / 2].bitLength(), bits[i]);
+            byte[] want = Wire.push(Ec.signature(4, h, 1));
+            x.tape(code);
+            x.judge.sign(0, 4, 1);
+            x.judge.seal(0);
+            byte[] got = Arrays.copyOfRange(x.tape(), SCRIPT_AT + 1, SCRIPT_AT + 1 + want.length);
+            Check.same("a number of " + bits[i] + " bits", got, want);
+        }
     }
 
     private static void upTo500Bytes() {
