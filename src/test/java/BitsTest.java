@@ -18,6 +18,7 @@ public final class BitsTest {
         othersAreRefused();
         manySpans();
         workOfHarderChains();
+        workOfAPowerOfTwo();
         workDecidesNotHeight();
         middles();
         elevenTimes();
@@ -189,6 +190,18 @@ public final class BitsTest {
         Check.same("3.2 is 3", y.judge.block(8, 7), 19);
         y.grow(1);
         Check.same("and 3", y.judge.block(9, 7), 22);
+    }
+
+    /** 2^253: eight of them are 2^256, but it is one more that divides. */
+    private static void workOfAPowerOfTwo() {
+        Bench x = new Bench();
+        growBy(x, 1348);
+        x.grow(1);
+        growBy(x, 4273);
+        Check.same("the bits", x.due(x.last()), 0x20200000L);
+        long before = x.judge.block(x.last(), 7);
+        x.grow(1);
+        Check.same("work", x.judge.block(x.last(), 7) - before, 7);
     }
 
     /** From height 7 on slow blocks have less work than the fast ones, so more of them must come. */

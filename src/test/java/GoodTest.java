@@ -28,7 +28,9 @@ public final class GoodTest {
         manySignatures();
         ownPushesAreNotSigned();
         pushesOfAllMAreNotSigned();
-        emptyOnesAreNotSignedEither();
+        ownPushesOfAllLengths();
+        twoInOneScript();
+        twentyKeys();
         theLatestMark();
         marksOfOtherScripts();
         longCodes();
@@ -87,7 +89,9 @@ public final class GoodTest {
         Check.same("nothing is false", judgedSecond(key, EMPTY, "ac91"), 0);
         BigInteger zero = BigInteger.ZERO;
         BigInteger[][] notGood = {{zero, s}, {r, zero}, {Ec.N, s}, {r, Ec.N}, {r, s.add(Ec.N)},
-            {r.add(Ec.N), s}, {r, BigInteger.ONE.shiftLeft(263).subtract(BigInteger.ONE)}};
+            {r.add(Ec.N), s}, {r, BigInteger.ONE.shiftLeft(263).subtract(BigInteger.ONE)},
+            {r, s.add(BigInteger.ONE.shiftLeft(256))}, {r.add(BigInteger.ONE.shiftLeft(256)), s},
+            {r, s.add(BigInteger.ONE.shiftLeft(262))}};
         for (BigInteger[] pair : notGood) {
             Check.same("out of range is false", judgedSecond(key, Ec.der(pair[0], pair[1], 3), "ac91"), 0);
         }
@@ -280,7 +284,7 @@ public final class GoodTest {
         for (int key : keys) {
             lock = Wire.join(lock, Wire.push(Ec.key(key, false)));
         }
-        lock = Wire.join(lock, Wire.number(80 + keys.length, 1), Wire.hex(behind));
+        lock = Wire.join(lock, Wire.push(Wire.number(keys.length, 1)), Wire.hex(behind));
         Wire.Tx made = locked(lock);
         Wire.Tx a = new Wire.Tx().in(made, 0, EMPTY).out(1, Bench.TRUE);
         byte[] script = Wire.hex("00");
@@ -362,21 +366,71 @@ public final class GoodTest {
     }
 
     /**
-     * Three signatures of three: a good one on top is looked at first; one that fails comes next, and fails if the top
-     * one was good. An empty one among them takes each 0 out of the code.
+     * Three signatures of three: a good one on top is looked at first; the next one is no DER, and fails if the top
+     * one was good. The third one is never looked at, but each push of it is taken out of the code: what was signed
+     * tells.
      */
-    private static void emptyOnesAreNotSignedEither() {
+    private static int third(byte[] other, byte[] pushed, boolean isSigned) {
         byte[] keys = Wire.join(Wire.push(Ec.key(1, false)), Wire.push(Ec.key(2, false)), Wire.push(Ec.key(3, false)));
-        byte[] with = Wire.join(Wire.hex("00 75 53"), keys, Wire.hex("53 ae 91"));
-        byte[] without = Wire.join(Wire.hex("75 53"), keys, Wire.hex("53 ae 91"));
-        for (byte[] code : new byte[][] {with, without}) {
-            Wire.Tx made = locked(with);
-            Wire.Tx a = new Wire.Tx().in(made, 0, EMPTY).out(1, Bench.TRUE);
-            byte[] good = Ec.signature(3, a.signedHash(0, code, 1), 1);
-            byte[] script = Wire.join(Wire.hex("00"), Wire.push(EMPTY), Wire.push(Wire.hex("30")), Wire.push(good));
-            Check.same(code == with ? "with the 0 it is not good" : "without the 0 it is", own(made, a, script),
-                    code == with ? 0 : -14);
+        byte[] left = Wire.join(Wire.hex("75 53"), keys, Wire.hex("53 ae 91"));
+        byte[] lock = Wire.join(pushed, left);
+        Wire.Tx made = locked(lock);
+        Wire.Tx a = new Wire.Tx().in(made, 0, EMPTY).out(1, Bench.TRUE);
+        byte[] good = Ec.signature(3, a.signedHash(0, isSigned ? lock : left, 1), 1);
+        return own(made, a, Wire.join(Wire.hex("00"), Wire.push(other), Wire.push(Wire.hex("30")), Wire.push(good)));
+    }
+
+    private static void stays(String what, byte[] other, byte[] pushed, boolean stays) {
+        Check.same(what + ": signed with it", third(other, pushed, true), stays ? -14 : 0);
+        Check.same(what + ": signed without it", third(other, pushed, false), stays ? 0 : -14);
+    }
+
+    /** By 0 .. 75 if it has fewer than 76 bytes, else by 76; in other forms, or with another byte, it stays. */
+    private static void ownPushesOfAllLengths() {
+        for (int n : new int[] {0, 1, 2, 74, 75, 76, 77, 255}) {
+            byte[] other = Wire.times(n, "77");
+            stays("a push of " + n, other, Wire.push(other), false);
+            stays("by 77 of " + n, other, Wire.join(Wire.number(77 | n << 8, 3), other), true);
+            if (n < 76) {
+                stays("by 76 of " + n, other, Wire.join(Wire.number(76 | n << 8, 2), other), true);
+            }
+            stays("a byte more than " + n, other, Wire.push(Wire.times(n + 1, "77")), true);
+            for (int i = 0; i < n; i += Math.max(1, n - 1)) {
+                byte[] near = other.clone();
+                near[i] ^= 1;
+                stays("another byte " + i + " of " + n, other, Wire.push(near), true);
+            }
         }
+        stays("256 bytes", Wire.times(256, "77"), Wire.push(Wire.times(256, "77")), true);
+    }
+
+    /** Each of them signs the same code; type 3 without its output signs a constant, whatever came before. */
+    private static void twoInOneScript() {
+        byte[] lock = Wire.join(Wire.push(Ec.key(4, false)), Wire.hex("ad"), Wire.push(Ec.key(5, true)),
+                Wire.hex("ac"));
+        for (int type : new int[] {1, 2, 3, 131}) {
+            Wire.Tx made = locked(lock);
+            Wire.Tx a = new Wire.Tx().in(made, 1, EMPTY).in(made, 0, EMPTY).out(1, Bench.TRUE);
+            byte[] first = Wire.push(Ec.signature(4, a.signedHash(1, lock, 1), 1));
+            byte[] second = Wire.push(Ec.signature(5, a.signedHash(1, lock, type), type));
+            a.ins.set(1, new Wire.In(made.id(), 0, Wire.join(second, first), Wire.MOST));
+            Check.same("1 and " + type, spend(made, a), 0);
+            first = Wire.push(Ec.signature(4, a.signedHash(1, lock, type), type));
+            second = Wire.push(Ec.signature(5, a.signedHash(1, lock, 1), 1));
+            a.ins.set(1, new Wire.In(made.id(), 0, Wire.join(second, first), Wire.MOST));
+            Check.same(type + " and 1", spend(made, a), 0);
+        }
+    }
+
+    private static void twentyKeys() {
+        int[] keys = new int[20];
+        for (int i = 0; i < 20; i++) {
+            keys[i] = i + 1;
+        }
+        Check.same("the last that is looked at", many(new int[] {1}, 1, keys, "ae"), 0);
+        Check.same("the first that is looked at", many(new int[] {20}, 1, keys, "ae"), 0);
+        Check.same("both", many(new int[] {1, 20}, 2, keys, "ae"), 0);
+        Check.same("none", many(new int[] {21}, 1, keys, "ae91"), 0);
     }
 
     private static void theLatestMark() {

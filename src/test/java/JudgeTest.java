@@ -332,6 +332,12 @@ public final class JudgeTest {
         Check.same("8 before 11", x.add(3, same.out(1, EMPTY)), -8);
         Wire.Tx other = new Wire.Tx().in(COIN_0, 0, EMPTY, 0).in(COIN_0, 1L << 24, EMPTY, 0).out(1, EMPTY);
         Check.same("another index is another one", x.add(3, other), -11);
+        for (int i : new int[] {0, 31}) {
+            byte[] near = COIN_0.clone();
+            near[i] ^= 1;
+            other = new Wire.Tx().in(COIN_0, 0, EMPTY, 0).in(near, 0, EMPTY, 0).out(1, EMPTY);
+            Check.same("so is another ID, by its byte " + i, x.add(3, other), -11);
+        }
         x = Bench.grown(4);
         Wire.Tx two = new Wire.Tx().in(COIN_0, 0, EMPTY, 0).in(x.id(1), 0, Bench.TRUE, 0).out(1, EMPTY);
         Check.same("another ID is another one", x.add(4, two), 0);
@@ -355,6 +361,13 @@ public final class JudgeTest {
         Check.same("60 in all scripts", x.addAll(3, first, spend), -14);
         first = Wire.firstTransaction(Wire.times(30, "ac"), 1).out(1, Wire.hex("ac"));
         Check.same("61 in all scripts", x.addAll(3, first, spend), -9);
+        first = Wire.firstTransaction(Wire.hex("0101"), 1).out(0, Wire.times(30, "ac")).out(0, Wire.times(30, "ad"));
+        Wire.Tx plain = new Wire.Tx().in(COIN_0, 0, EMPTY, 0).out(1, EMPTY);
+        Check.same("each one once", x.addAll(3, first, plain), 0);
+        x = Bench.grown(3);
+        Wire.Tx two = new Wire.Tx().in(COIN_0, 0, EMPTY, 0).in(COIN_0, 1, Wire.times(60, "ac"), 0).out(1, EMPTY);
+        Check.same("each one of inputs once", x.add(3, two, plain), -11);
+        first = Wire.firstTransaction(Wire.times(31, "ac"), 1);
         Check.same("8 before 9", x.addAll(3, first, spend, new Wire.Tx().out(1, EMPTY)), -8);
         Check.same("7 before 9", x.addAll(3, first, spend, x.first(3)), -7);
     }
@@ -374,6 +387,9 @@ public final class JudgeTest {
             Bench x = Bench.grown(1);
             Check.same(script, x.addAll(1, x.first(1).out(0, Wire.hex(script))), -9);
         }
+        Bench behind = Bench.grown(3);
+        Wire.Tx spend = new Wire.Tx().in(COIN_0, 0, Wire.hex("0151"), 0xACACACACL).out(1, Wire.times(60, "ac"));
+        Check.same("a byte behind a script", behind.add(3, spend), 0);
         byte[] inner = Wire.join(Wire.hex("0063"), Wire.times(70, "ac"), Wire.hex("6851"));
         int answer = Bench.spend(Wire.push(inner), Bench.lockOf(inner), 0, Wire.MOST);
         Check.same("70 in a pushed script that is done", answer, 0);
@@ -396,6 +412,12 @@ public final class JudgeTest {
                 Check.same("lock " + locks[i], locked(locks[i], Wire.MOST - 1, t, 1002400), want[i]);
                 Check.same("with last sequences " + locks[i], locked(locks[i], Wire.MOST, t, 1002400), 0);
             }
+        }
+        for (int lock = 0; lock < 3; lock++) {
+            Bench low = new Bench();
+            Wire.Tx only = new Wire.Tx().in(Wire.NO_HASH, Wire.MOST, Wire.hex("0101"), 0).out(1, EMPTY);
+            only.lock = lock;
+            Check.same("lock " + lock + " at height 1", low.addAll(0, only), lock == 0 ? 0 : -10);
         }
         Bench x = Bench.grown(3);
         Wire.Tx early = x.first(3);

@@ -22,11 +22,15 @@ public final class OperationTest {
         enoughElements();
         branchesTakeOne();
         signaturesTakeTheirs();
+        numbersOfKeysAndSignatures();
         nothingNeeded();
         othersFailIfDone();
         whatFailsIfNotDone();
         numbersOfFourBytes();
         resultsInTheShortestForm();
+        numbersBehindLongerOnes();
+        flags();
+        movesOfAllLengths();
         whatIsTrue();
         branchesEndInTheirScript();
         Check.end();
@@ -157,6 +161,23 @@ public final class OperationTest {
         }
         check("00 00 51 51 51", "ae91", true);
         check("00 51 51 51", "ae91", false);
+        check("51 00 00", "ac 7452 87", true);
+        check("51 00 00 00", "ae 7452 87", true);
+        check("51 00 00 00", "af 7451 87", true);
+        check("51 00 00 51 51 51", "ae 7452 87", true);
+    }
+
+    /** Numbers of 174 that are out of range fail; they are not just false. */
+    private static void numbersOfKeysAndSignatures() {
+        String more = "00".repeat(30);
+        check(more, "00 51 00 ae 91", false);
+        check(more, "00 4f 00 ae 91", false);
+        check(more, "51 52 51 51 ae 91", false);
+        check(more, "00 00 4f ae 91", false);
+        check(more, "00 01 15 ae 91", false);
+        check(more, "51 01 14 ae 91", false);
+        check(more + "51" + "00".repeat(20), "01 14 ae 91", true);
+        check("00 00" + "51" + "51".repeat(2), "52 ae 91", true);
     }
 
     private static void nothingNeeded() {
@@ -258,6 +279,70 @@ public final class OperationTest {
         check("03050000 56", "a3 55 87", true);
         check("0180 51", "a3 00 87", true);
         check("51 51", "9e 00 87", true);
+    }
+
+    private static void numbersBehindLongerOnes() {
+        check("04ffffff7f 8c 75 017f", "8b 028000 87", true);
+        check("04ffffffff 8b 75 01ff", "8c 028080 87", true);
+        check("020101 8b 75 52", "8b 53 87", true);
+    }
+
+    /** What tells yes or no is the byte 1, or empty. */
+    private static void flags() {
+        String[][] yes = {{"5151", "87"}, {"00", "91"}, {"52", "92"}, {"5253", "9a"}, {"5200", "9b"}, {"5252", "9c"},
+            {"5253", "9e"}, {"5152", "9f"}, {"5251", "a0"}, {"5152", "a1"}, {"5251", "a2"}, {"525153", "a5"},
+            {"000000", "ae"}};
+        String[][] no = {{"5152", "87"}, {"52", "91"}, {"00", "92"}, {"5200", "9a"}, {"0000", "9b"}, {"5253", "9c"},
+            {"5252", "9e"}, {"5252", "9f"}, {"5252", "a0"}, {"5352", "a1"}, {"5253", "a2"}, {"535153", "a5"},
+            {"0000", "ac"}, {"00005151", "51ae"}};
+        for (String[] one : yes) {
+            check(one[0], one[1] + "0101 88 74 00 87", true);
+        }
+        for (String[] one : no) {
+            check(one[0], one[1] + "00 88 74 00 87", true);
+        }
+    }
+
+    /** Element k has k bytes; the result from the bottom on. */
+    private static void movesOfAllLengths() {
+        moved("", "6d", "1", 3);
+        moved("", "6e", "1212", 2);
+        moved("", "6f", "123123", 3);
+        moved("", "70", "123412", 4);
+        moved("", "71", "345612", 6);
+        moved("", "72", "3412", 4);
+        moved("", "73", "1233", 3);
+        moved("", "75", "12", 3);
+        moved("", "76", "1233", 3);
+        moved("", "77", "13", 3);
+        moved("", "78", "12343", 4);
+        moved("", "7b", "1342", 4);
+        moved("", "7c", "1243", 4);
+        moved("", "7d", "12434", 4);
+        moved("00", "79", "12344", 4);
+        moved("53", "79", "12341", 4);
+        moved("00", "7a", "1234", 4);
+        moved("51", "7a", "1243", 4);
+        moved("53", "7a", "2341", 4);
+        moved("", "6b6b6c6c", "1234", 4);
+        moved("", "6b7c6c", "213", 3);
+        moved("", "6b6b75 6c6c", "134", 4);
+    }
+
+    private static byte[] element(int k) {
+        return Wire.push(Wire.times(k, "a" + k));
+    }
+
+    private static void moved(String number, String op, String want, int elements) {
+        byte[] script = Bench.EMPTY;
+        for (int k = 1; k <= elements; k++) {
+            script = Wire.join(script, element(k));
+        }
+        byte[] lock = Wire.hex(number + op);
+        for (int i = want.length() - 1; i >= 0; i--) {
+            lock = Wire.join(lock, element(want.charAt(i) - '0'), Wire.hex("88"));
+        }
+        check(number + " " + op, script, Wire.join(lock, Wire.hex("740087")), true);
     }
 
     /** For 99, 100, 105, 115 and at the end: any byte not 0, but for 128 as the last one. */

@@ -18,6 +18,8 @@ public final class ReadTest {
         countsInTheShortestForm();
         countsFarTooHigh();
         countsAt253();
+        longForms();
+        countsAtTheEndOfAFullTape();
         asManyAsATapeHolds();
         theEndOfAFullTape();
         scriptsUpToTheEnd();
@@ -107,10 +109,42 @@ public final class ReadTest {
             Check.same("an input's script of " + n, judged(head(), Wire.hex("01"), in), READ);
             Check.same("an output's script of " + n, judged(head(), Wire.hex("01"), out), READ);
         }
-        byte[] longer = new Wire.Tx().in(Wire.NO_HASH, Wire.MOST, new byte[253], 0).out(1, EMPTY).bytes();
-        longer[42] = (byte) 252;
-        byte[] less = Arrays.copyOf(longer, longer.length - 1);
-        Check.same("252 in three bytes", judged(head(), Wire.hex("01"), less), NO_BLOCK);
+        for (String count : new String[] {"fdfc00", "fefc000000", "fffc00000000000000"}) {
+            Check.same("252 as " + count, judged(head(), ofScript(count, 252)), NO_BLOCK);
+        }
+    }
+
+    /** A block's transaction whose input has a script of so many bytes, by this count. */
+    private static byte[] ofScript(String count, int bytes) {
+        return Wire.join(Wire.hex("01 01000000 01"), Wire.NO_HASH, Wire.hex("ffffffff" + count),
+                Wire.times(bytes, "61"), Wire.hex("ffffffff 01 0100000000000000 00 00000000"));
+    }
+
+    /** 254 and 255 are no counts of one byte, and what they tell here has a shorter form. */
+    private static void longForms() {
+        Check.same("253", judged(head(), ofScript("fdfd00", 253)), READ);
+        String[] counts = {"fe", "ff", "fefd000000", "fffd00000000000000", "fe00040000", "ff0004000000000000", "fd"};
+        int[] bytes = {254, 255, 253, 253, 1024, 1024, 253};
+        for (int i = 0; i < counts.length; i++) {
+            Check.same(bytes[i] + " as " + counts[i], judged(head(), ofScript(counts[i], bytes[i])), NO_BLOCK);
+        }
+    }
+
+    /** A count of three bytes is cut by the end of a full tape; what was judged before must not be read. */
+    private static void countsAtTheEndOfAFullTape() {
+        byte[] head = head();
+        String[] behind = {"", "00 00000000", "00 00000000 01000000", "01 0100000000000000"};
+        String[] what = {"outputs", "the next version", "inputs", "an output's script"};
+        for (int i = 0; i < behind.length; i++) {
+            byte[] rest = Wire.hex(behind[i]);
+            for (int at = 1594; at < 1600; at++) {
+                int script = at - rest.length - 81 - 4 - 1 - 36 - 3 - 4;
+                byte[] in = new Wire.Tx().in(Wire.NO_HASH, Wire.MOST, new byte[script], 0).bytes();
+                byte[] part = Arrays.copyOf(in, in.length - 5);
+                byte[] all = Wire.join(head, Wire.hex("02"), part, rest, Wire.times(6, "fd"));
+                Check.same("a count of " + what[i] + " at " + at, judged(Arrays.copyOf(all, 1600)), NO_BLOCK);
+            }
+        }
     }
 
     /** 40 inputs and 180 outputs would need more than 1600 bytes; what fits is read. */

@@ -23,7 +23,11 @@ public final class ScriptTest {
         {"00", "63 52 67 53 67 54 68 5387", "yes"}, {"00", "63 63 67 52 68 67 51 68", "yes"},
         {"0180", "63 67 51 68", "yes"}, {"00", "63 99 68 51", "no"}, {"00", "63 65 68 51", "no"},
         {"00", "63 66 68 51", "no"}, {"51", "63 67 65 68 51", "no"}, {"51 51", "63 63 52 68 68 5287", "yes"},
-        {"00", "63 64 68 68 51", "yes"},
+        {"00", "63 64 68 68 51", "yes"}, {"", "63 51", "no"}, {"", "64 51", "no"}, {"51", "63 52 67 53 68 5387", "no"},
+        {"51", "63 51 67 51 68 6a", "no"}, {"00", "63 51 67 51 68 6a", "no"}, {"51", "63 67 68 51 6a", "no"},
+        {"51", "63 67 67 68 51 6a", "no"}, {"00", "63 67 67 68 51 6a", "no"}, {"00", "63 63 67 68 68 51 6a", "no"},
+        {"51", "63 51 67 6a 67 52 68 5287", "yes"}, {"51", "63 51 67 51 67 6a 68", "no"},
+        {"00", "63 6a 67 51 67 6a 68", "yes"}, {"00", "63 51 67 6a 67 51 68", "no"},
         // those that fail also if not done
         {"00", "63 7e 68 51", "no"}, {"00", "63 7f 68 51", "no"}, {"00", "63 80 68 51", "no"},
         {"00", "63 81 68 51", "no"}, {"00", "63 82 68 51", "yes"}, {"00", "63 83 68 51", "no"},
@@ -106,6 +110,8 @@ public final class ScriptTest {
             check(given[0] + " | " + given[1], Wire.hex(given[0]), Wire.hex(given[1]), given[2].equals("yes"));
         }
         limits();
+        asManyBytesAsOperationsMake();
+        oneBehindAnother();
         innerScripts();
         locks();
         Check.end();
@@ -142,6 +148,32 @@ public final class ScriptTest {
         check("keys that are not done", Wire.hex("51 00"), closed, true);
         check("20 keys", Wire.join(Wire.hex("00 00"), Wire.times(20, "51")), Wire.hex("0114ae"), true);
         check("21 keys", Wire.join(Wire.hex("00 00"), Wire.times(21, "51")), Wire.hex("0115ae"), false);
+    }
+
+    /** 201 hashes in both scripts of three inputs: each of them begins anew. */
+    private static void asManyBytesAsOperationsMake() {
+        Bench x = Bench.grown(3);
+        byte[] lock = Wire.times(201, "a8");
+        byte[] script = Wire.join(Wire.hex("51"), Wire.times(201, "aa"));
+        Wire.Tx made = new Wire.Tx().in(Bench.COIN_0, 0, Bench.EMPTY, 0).out(1, lock).out(2, lock).out(3, lock);
+        Check.same("made", x.add(3, made), 0);
+        Wire.Tx spend = new Wire.Tx().in(made, 0, script).in(made, 1, script).in(made, 2, script).out(6, Bench.TRUE);
+        Check.same("spent", x.add(4, spend), 0);
+    }
+
+    /** What a script that failed has left behind does not touch the next one. */
+    private static void oneBehindAnother() {
+        String[] failing = {"51 63", "00 63", "51 63 67", "51 6b 6c 6c", "51 51 6b 6b 6a", "61".repeat(202), "51 ab 6a",
+            "51".repeat(999) + "6b5151516a"};
+        for (String script : failing) {
+            Bench x = Bench.grown(3);
+            Wire.Tx bad = new Wire.Tx().in(Bench.COIN_0, 0, Wire.hex(script), 0).out(1, Bench.TRUE);
+            Check.same("fails: " + script, x.add(3, bad), -14);
+            Wire.Tx fine = new Wire.Tx().in(Bench.COIN_0, 0, Wire.hex("51 63 52 67 6a 68 6b 6c"), 0).out(1, Bench.TRUE);
+            Check.same("fine behind it", x.add(3, fine), 0);
+            Wire.Tx dry = new Wire.Tx().in(fine, 0, Wire.hex("6c")).out(1, Bench.TRUE);
+            Check.same("nothing aside", x.add(x.last(), dry), -14);
+        }
     }
 
     private static void inner(String what, String before, String script, boolean yes) {

@@ -121,8 +121,11 @@ public final class SignTest {
         x.judge.key(0x7fffffff, 1);
         x.judge.end(0);
         for (int i = 0; i < 3; i++) {
-            byte[] want = Wire.push(Ec.signature(1 + i, a.signedHash(i, EMPTY, 1), 1));
-            Check.same("sign", x.judge.sign(i, 1 + i, 1), 1 + want.length);
+            byte[] code = Wire.times(20 - 5 * i, "5" + i);
+            int type = i == 1 ? 1 : 3;
+            byte[] want = Wire.push(Ec.signature(1 + i, a.signedHash(i, code, type), type));
+            x.tape(code);
+            Check.same("sign", x.judge.sign(i, 1 + i, type), 1 + want.length);
             Wire.In old = a.ins.get(i);
             a.ins.set(i, new Wire.In(old.id(), old.index(), Wire.join(old.script(), want), old.sequence()));
         }

@@ -45,6 +45,9 @@ public final class SpendTest {
         Check.same("spent", x.add(3, take(COIN_0, 0, 1)), 0);
         Check.same("spent before", x.add(x.last(), take(COIN_0, 0, 2)), -11);
         Check.same("twice in one block", Bench.grown(3).add(3, take(COIN_0, 0, 1), take(COIN_0, 0, 2)), -11);
+        Bench y = Bench.grown(4);
+        Wire.Tx two = new Wire.Tx().in(y.id(1), 0, Bench.TRUE, 0).in(COIN_0, 0, EMPTY, 0).out(1, EMPTY);
+        Check.same("the second of two, and again", y.add(4, two, take(COIN_0, 0, 2)), -11);
     }
 
     private static void coinsOfTheSameBlock() {
