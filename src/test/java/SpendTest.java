@@ -226,6 +226,16 @@ public final class SpendTest {
         Check.same("the same ones again", x.addAll(3, many(0, 133)), 0);
         Check.same("take the places", x.judge.tell(5), 400);
         Check.same("one more than these", x.addAll(x.last(), many(1, 134)), -16);
+        Bench y = Bench.grown(1);
+        Check.same("number 0's again", y.addAll(1, Wire.firstTransaction(Wire.hex("0000"), 5000000000L)), 0);
+        Check.same("takes its place", y.judge.tell(5), 2);
+        Check.same("coins", y.judge.coins(), 10000000000L);
+        Check.same("by number 0", y.judge.coin(0, 0, 0), 5000000000L);
+        Check.same("a block more", y.add(2), 0);
+        Check.same("it is young again at height 4", y.add(3, take(COIN_0, 0, 1)), -12);
+        Check.same("a block more", y.add(3), 0);
+        Check.same("and old at height 5", y.add(5, take(COIN_0, 0, 1)), 0);
+        Check.same("gone by number 0, too", y.judge.coin(0, 0, 0), -1);
     }
 
     /** As many outputs as a tape has room for, on as many coins as there may be. */
