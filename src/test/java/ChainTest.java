@@ -20,6 +20,7 @@ public final class ChainTest {
         aRefusedChainChangesNothing();
         badOnesSpread();
         aBadOneInTheMiddle();
+        theBestGoesOnBehindARefusal();
         aWayBackAndForth();
         sameFirstTransactions();
         sameOtherTransactions();
@@ -193,6 +194,18 @@ public final class ChainTest {
         Check.same("the fine one is no bad one", x.add(5), 1);
         Check.same("and may go on", x.add(8), 2);
         standings(x, "111001" + "2211");
+    }
+
+    /** The bad one lies one below the block that was judged; what comes next has nothing to do with both. */
+    private static void theBestGoesOnBehindARefusal() {
+        Bench x = Bench.grown(3);
+        Wire.Tx lost = new Wire.Tx().in(COIN_0, 7, EMPTY, 0).out(1, EMPTY);
+        Check.same("stored though it is wrong", x.add(2, lost), 1);
+        Check.same("it would win", x.add(4), -11);
+        Check.same("the best goes on", x.add(3), 0);
+        Check.same("another chain", x.add(3), 1);
+        Check.same("wins", x.add(7), 2);
+        standings(x, "111122011");
     }
 
     private static void aWayBackAndForth() {
