@@ -147,6 +147,16 @@ public final class TapeTest {
         ripe("abcdefghijklmnopqrstuvwxyz", "f71c27109c692c1b56bbdceb5b9d2865b3708dbc");
         ripe("abcdbcdecdefdefgefghfghighijhijkijkljklmklmnlmnomnopnopq", "12a053384a9c0c88e405a06c27dcf49ada62eb2b");
         ripe("1234567890".repeat(8), "9b752e45573d4b39f4dbd3323cab82bf63326bfb");
+        ripe(pattern(55), "115fb02add31889f6d63bfeec3de2571227cd178");
+        ripe(pattern(56), "c91bf9b49b5d88b87e278be49b7300da105631a7");
+        ripe(pattern(57), "be2aa9d6611aafbfd9f2253fc0d198b52f38ec3b");
+        ripe(pattern(63), "fad22cd239b144a3952b13fb8bbf11ae1bbf460b");
+        ripe(pattern(64), "9b45044af9bef4cb244c0c02a880c30353d644a8");
+        ripe(pattern(65), "c78a9d10d724818f8d058e10bda06a004f14508c");
+        ripe(pattern(119), "750e240ed6a2016fa977716005b5b92a37f7cd71");
+        ripe(pattern(120), "51bd1331669e2c2d038f80e7c4385fe16ed73bdd");
+        ripe(pattern(126), "cfa7ed3f03e42c2ddb97b77fec27c58e50ad1460");
+        ripe(pattern(127), "e33951d08c6dfb42fdddfec3e44216f7bed90b98");
         ripe(pattern(128), "be8bccdcdc8a5cfaf872d10a92c75fe98311f3a8");
         ripe(pattern(200), "5f46013eeca0be822ec2c04dfac8ec3a343722b9");
         ripe(pattern(1600), "77b418235840dc66eb8fe73ae42ba12970a1115c");
