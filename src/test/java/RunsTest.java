@@ -42,7 +42,8 @@ public final class RunsTest {
         }
     }
 
-    private static String answer(CoinJudge judge, String[] words) {
+    /** The answer to a call, as it is written in a run: of words, the first is its name, the last one is left alone. */
+    static String answer(CoinJudge judge, String[] words) {
         long[] given = new long[words.length - 2];
         for (int i = 0; i < given.length; i++) {
             given[i] = Long.parseLong(words[i + 1]);
